@@ -1,0 +1,124 @@
+import java.io.IOException;
+import java.lang.reflect.Constructor;
+import java.lang.reflect.Field;
+import java.lang.reflect.Method;
+import java.lang.reflect.Modifier;
+import java.nio.file.Files;
+import java.nio.file.Path;
+import java.util.Arrays;
+import java.util.List;
+import java.util.Set;
+import java.util.TreeSet;
+import java.util.regex.Matcher;
+import java.util.regex.Pattern;
+
+/** The class has the document's face and no more, and keeps what can be seen of LANGUAGE.md. */
+public final class FaceTest {
+    private static final String[] FACE = {
+        "boolean retreat()", "boolean tape(int,int,int,int,int)",
+        "int bestAt(int) throws IllegalStateException,IllegalArgumentException",
+        "int distanceToMate() throws IllegalStateException",
+        "int historyOf(int,int) throws IndexOutOfBoundsException", "int legalMany()",
+        "int legalMove(int) throws IndexOutOfBoundsException", "int manOn(int)",
+        "int matingMove() throws IllegalStateException",
+        "int proceed(int) throws IllegalStateException,IndexOutOfBoundsException", "int status(int)",
+        "int submit(int) throws IllegalArgumentException",
+        "int valueAt(int) throws IllegalStateException,IllegalArgumentException",
+        "long linesTo(int) throws IllegalStateException,IllegalArgumentException", "long recordAt(int)",
+        "long spelling(int) throws IndexOutOfBoundsException"};
+
+    private FaceTest() {
+    }
+
+    public static void main(String[] args) throws IOException {
+        face();
+        members();
+        source(Files.readString(Path.of("src/main/java/GameHall.java")));
+        Hall.end("FaceTest");
+    }
+
+    private static String names(Class<?>[] types) {
+        StringBuilder out = new StringBuilder();
+        for (Class<?> type : types) {
+            out.append(out.length() == 0 ? "" : ",").append(type.getSimpleName());
+        }
+        return out.toString();
+    }
+
+    private static void face() {
+        Set<String> due = new TreeSet<>(Arrays.asList(FACE));
+        Set<String> got = new TreeSet<>();
+        for (Method method : GameHall.class.getDeclaredMethods()) {
+            if (!Modifier.isPrivate(method.getModifiers())) {
+                String thrown = names(method.getExceptionTypes());
+                got.add(method.getReturnType().getSimpleName() + " " + method.getName() + "("
+                        + names(method.getParameterTypes()) + ")" + (thrown.isEmpty() ? "" : " throws " + thrown));
+            }
+        }
+        Hall.due("the face", due.toString(), got.toString());
+    }
+
+    private static void members() {
+        int modifiers = GameHall.class.getModifiers();
+        Hall.due("public and final", 1, Modifier.isPublic(modifiers) && Modifier.isFinal(modifiers) ? 1 : 0);
+        for (Field field : GameHall.class.getDeclaredFields()) {
+            boolean hidden = Modifier.isPrivate(field.getModifiers());
+            Hall.due("field " + field.getName(), 1, hidden != field.getName().equals("NONE") ? 1 : 0);
+        }
+        Constructor<?>[] makers = GameHall.class.getDeclaredConstructors();
+        Hall.due("constructors", 1, makers.length);
+        Hall.due("constructor", "int", names(makers[0].getParameterTypes()));
+        Set<String> publicNames = new TreeSet<>();
+        for (String line : FACE) {
+            publicNames.add(line.replaceAll("\\(.*", "").replaceAll(".* ", ""));
+        }
+        List<Class<?>> inner = Arrays.asList(GameHall.class.getDeclaredClasses());
+        Hall.due("twelve classes at the most", 1, inner.size() <= 11 ? 1 : 0);
+        for (Class<?> type : inner) {
+            boolean fits = Modifier.isStatic(type.getModifiers()) && !Modifier.isPublic(type.getModifiers());
+            Hall.due("class " + type.getName(), 1, fits ? 1 : 0);
+            for (Field field : type.getDeclaredFields()) {
+                boolean fixed = !Modifier.isStatic(field.getModifiers()) || Modifier.isFinal(field.getModifiers());
+                Hall.due("field " + field, 1, fixed ? 1 : 0);
+            }
+            for (Method method : type.getDeclaredMethods()) {
+                Hall.due("method " + method, 0, publicNames.contains(method.getName()) ? 1 : 0);
+                Hall.due("parameters of " + method, 1, method.getParameterCount() <= 7 ? 1 : 0);
+            }
+        }
+    }
+
+    private static void source(String text) {
+        String bare = text.replaceAll("(?s)/\\*.*?\\*/", "").replaceAll("//[^\n]*", "");
+        String[] ruledOut = {"->", "::", "\\btry\\b", "\\bcatch\\b", "\\bfinally\\b", "\\bsynchronized\\b", "\\bassert\\b",
+            "\\bSystem\\b", "\\bObject\\b", "\\bInteger\\b", "\\bdouble\\b", "\\bfloat\\b", "\\bprotected\\b", "\\bstatic \\{",
+            "\\.equals\\(", "\\bhashCode\\b", "\\btoString\\b", "\\bRandom\\b", "\\bpackage\\b"};
+        for (String word : ruledOut) {
+            Matcher found = Pattern.compile(word).matcher(bare);
+            Hall.due("'" + word + "' in the source", 0, found.find() ? 1 : 0);
+        }
+        Matcher imports = Pattern.compile("import [^;]*;").matcher(bare);
+        while (imports.find()) {
+            Hall.due("import", "import java.util.Arrays;", imports.group());
+        }
+        methodLengths(bare.split("\n"));
+    }
+
+    /** Methods stand eight (or in the outer class four) columns in, and end where a brace stands so. */
+    private static void methodLengths(String[] lines) {
+        for (int indent : new int[] {4, 8}) {
+            Pattern head = Pattern.compile(" {" + indent + "}\\S.*\\) (throws [^{]*)?\\{");
+            Pattern end = Pattern.compile(" {" + indent + "}\\}");
+            for (int at = 0; at < lines.length; at++) {
+                if (!head.matcher(lines[at]).matches()) {
+                    continue;
+                }
+                int last = at;
+                while (!end.matcher(lines[last]).matches()) {
+                    last++;
+                }
+                Hall.due("short: " + lines[at].trim(), 1, last - at <= 60 ? 1 : 0);
+            }
+        }
+    }
+}
