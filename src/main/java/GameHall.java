@@ -32,8 +32,8 @@ public final class GameHall {
     private static final int TAPE_FULL = 8180;
     private static final int BLANK = ' ';
 
-    private final Tape tape = new Tape();
-    private final Compass compass = new Compass();
+    private final Tape tape;
+    private final Compass compass;
     private final RecordReader recordReader;
     private final MoveReader moveReader;
     private final Scribe scribe;
@@ -49,13 +49,18 @@ public final class GameHall {
 
     /** slots changes nothing of what is told, so nothing is made of it. */
     public GameHall(int slots) {
-        Mover mover = new Mover(compass);
-        game = new Game(compass, mover);
-        spare = new Game(compass, mover);
-        scribe = new Scribe(mover);
-        recordReader = new RecordReader(tape, spare.board);
-        moveReader = new MoveReader(tape, scribe);
+        Tape newTape = new Tape();
+        Compass newCompass = new Compass();
+        Mover mover = new Mover(newCompass);
+        Scribe newScribe = new Scribe(mover);
+        tape = newTape;
+        compass = newCompass;
+        scribe = newScribe;
+        recordReader = new RecordReader(newTape, new Board(newCompass));
+        moveReader = new MoveReader(newTape, newScribe);
         searcher = new Searcher(mover);
+        game = new Game(newCompass, mover);
+        spare = new Game(newCompass, mover);
     }
 
     public boolean tape(int a, int b, int c, int d, int e) {
@@ -215,10 +220,10 @@ public final class GameHall {
             case 1: return fault;
             case 2: return faultMove;
             case 3: return game.many;
-            case 13: return taken;
             case 10: return game.many == 0 ? 0 : game.board.menMany();
             case 11: return game.differentMany();
             case 12: return game.greatestCount();
+            case 13: return taken;
             default: return game.many == 0 ? NONE : positionStatus(which);
         }
     }
@@ -241,9 +246,6 @@ public final class GameHall {
         int end = 0;
 
         boolean take(int a, int b, int c, int d, int e) {
-            if (end >= TAPE_FULL) {
-                return false;
-            }
             int at = end / 4;
             if (at + 5 > words.length) {
                 return false;
@@ -270,7 +272,7 @@ public final class GameHall {
             if (place < 0 || place >= end) {
                 return NONE;
             }
-            return words[place / 4] >>> 24 - 8 * (place % 4) & 255;
+            return words[place / 4] >>> (24 - 8 * (place % 4)) & 255;
         }
     }
 
@@ -420,7 +422,7 @@ public final class GameHall {
             int become = move >> 12 & 7;
             int man = men[from];
             int gone = men[to];
-            int before = gone | rights << 4 | passant + 1 << 8;
+            int before = gone | rights << 4 | (passant + 1) << 8;
             if (passes(move)) {
                 liftPassed(from, to);
             }
@@ -652,8 +654,8 @@ public final class GameHall {
             }
             int home = 4 + 56 * own;
             if (from == home && !checked) {
-                addCastling(home, home + 3, 1 << 2 * own);
-                addCastling(home, home - 4, 2 << 2 * own);
+                addCastling(home, home + 3, 1 << (2 * own));
+                addCastling(home, home - 4, 2 << (2 * own));
             }
         }
 
@@ -821,7 +823,7 @@ public final class GameHall {
             mover.sort(list, listMany);
             int passing = passingFile();
             pack(at);
-            marks[at] = board.side | board.rights << 1 | passing + 1 << 5;
+            marks[at] = board.side | board.rights << 1 | (passing + 1) << 5;
             passants[at] = board.passant;
             numbers[at] = number;
             int twin = latestSame(at);
@@ -851,7 +853,7 @@ public final class GameHall {
             for (int part = 0; part < 4; part++) {
                 long word = 0;
                 for (int k = 0; k < 16; k++) {
-                    word |= (long) board.men[part * 16 + k] << 4 * k;
+                    word |= (long) board.men[part * 16 + k] << (4 * k);
                 }
                 packed[at * 4 + part] = word;
             }
@@ -859,7 +861,7 @@ public final class GameHall {
 
         private void unpack(int at) {
             for (int square = 0; square < 64; square++) {
-                board.men[square] = (int) (packed[at * 4 + square / 16] >>> 4 * (square % 16)) & 15;
+                board.men[square] = (int) (packed[at * 4 + square / 16] >>> (4 * (square % 16))) & 15;
             }
             board.side = marks[at] & 1;
             board.rights = marks[at] >> 1 & 15;
@@ -911,7 +913,7 @@ public final class GameHall {
                 if (KIND[man] == KNIGHT) {
                     knights++;
                 } else if (KIND[man] == BISHOP) {
-                    light += square % 8 + square / 8 & 1;
+                    light += (square % 8 + square / 8) % 2;
                     whiteBishops += 1 - OWNER[man];
                     blackBishops += OWNER[man];
                 }
@@ -1253,9 +1255,9 @@ public final class GameHall {
                     word = word << 8 | 'x';
                 }
             } else if ((from & 7) != (to & 7)) {
-                word = 'a' + (from & 7) << 8 | 'x';
+                word = ('a' + (from & 7)) << 8 | 'x';
             }
-            word = word << 16 | 'a' + (to & 7) << 8 | '1' + (to >> 3);
+            word = word << 16 | ('a' + (to & 7)) << 8 | ('1' + (to >> 3));
             int become = move >> 12;
             return become == 0 ? word : word << 8 | LETTERS.charAt(become - 1);
         }
@@ -1276,10 +1278,10 @@ public final class GameHall {
             }
             long word = letter;
             if (rival && (!fileShared || rankShared)) {
-                word = word << 8 | 'a' + (from & 7);
+                word = word << 8 | ('a' + (from & 7));
             }
             if (fileShared) {
-                word = word << 8 | '1' + (from >> 3);
+                word = word << 8 | ('1' + (from >> 3));
             }
             return word;
         }
@@ -1674,7 +1676,7 @@ public final class GameHall {
         /** What the man attacks, with only its own king in the way. */
         private long reachOf(int king, int man) {
             if (kind == PAWN) {
-                long ahead = 1L << man + 8;
+                long ahead = 1L << (man + 8);
                 return (ahead & ~LEFT_FILE) >>> 1 | (ahead & ~RIGHT_FILE) << 1;
             }
             long squares = 0;
@@ -1745,7 +1747,7 @@ public final class GameHall {
             }
             freshStrong[pair - 8] |= freshWeak[pair];
             if (man / 8 == 3 && king != man - 8) {
-                freshStrong[pair - 16] |= freshWeak[pair] & ~(1L << man - 8);
+                freshStrong[pair - 16] |= freshWeak[pair] & ~(1L << (man - 8));
             }
         }
 
@@ -1762,7 +1764,7 @@ public final class GameHall {
         private boolean settle(MateTable table, int level) {
             boolean some = false;
             for (int pair = 0; pair < MateTable.PAIRS; pair++) {
-                long won = freshStrong[pair] & escape[pair] & ~(1L << pair % 64);
+                long won = freshStrong[pair] & escape[pair] & ~(1L << (pair % 64));
                 freshWeak[pair] = 0;
                 if (won == 0) {
                     continue;

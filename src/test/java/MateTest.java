@@ -15,13 +15,11 @@ public final class MateTest {
     }
 
     public static void main(String[] args) {
-        for (int kind : KINDS) {
-            DISTANCE[kind] = solve(kind);
-        }
         boolean all = args.length > 0 && args[0].equals("all");
         Random random = new Random(7);
         GameHall hall = null;
         for (int kind : KINDS) {
+            table(kind);
             int asked = 0;
             for (int at = 0; at < 2 * 64 * 64 * 64; at++) {
                 if (!stands(kind, at) || !all && random.nextInt(130) > 0) {
@@ -42,9 +40,20 @@ public final class MateTest {
         Hall.end("MateTest");
     }
 
+    /** Solved when it is first asked; a pawn becomes the others. */
+    private static short[] table(int kind) {
+        if (DISTANCE[kind] == null) {
+            for (int become = 2; become <= 5 && kind == 1; become++) {
+                table(become);
+            }
+            DISTANCE[kind] = solve(kind);
+        }
+        return DISTANCE[kind];
+    }
+
     private static int longest(int kind) {
         int longest = -1;
-        for (short d : DISTANCE[kind]) {
+        for (short d : table(kind)) {
             longest = Math.max(longest, d);
         }
         return longest;
@@ -190,32 +199,42 @@ public final class MateTest {
         return x;
     }
 
-    private static int distance(Oracle x) {
+    /** The DISTANCE of any position, -1 if it has none. */
+    static int distance(Oracle x) {
         int man = -1;
+        int men = 0;
         for (int s = 0; s < 64; s++) {
+            men += x.men[s] == 0 ? 0 : 1;
             man = Oracle.kind(x.men[s]) != 6 && x.men[s] != 0 ? s : man;
         }
-        if (man < 0) {
+        if (men != 3 || x.rights != 0) {
             return -1;
         }
         int strong = Oracle.owner(x.men[man]);
         int turn = 56 * strong;
         int weakMoves = x.side == strong ? 0 : 1;
         int at = at(weakMoves, x.king(strong) ^ turn, man ^ turn, x.king(1 - strong) ^ turn);
-        return DISTANCE[Oracle.kind(x.men[man])][at];
+        return table(Oracle.kind(x.men[man]))[at];
+    }
+
+    /** The place of the MATING move, -1 if there is none. */
+    static int matingPlace(Oracle x) {
+        int distance = distance(x);
+        List<Integer> list = x.list();
+        for (int i = 0; i < list.size() && distance > 0; i++) {
+            if (distance(x.after(list.get(i))) == distance - 1) {
+                return i;
+            }
+        }
+        return -1;
     }
 
     private static void compare(GameHall hall, int kind, int at, int strong) {
         Oracle x = position(kind, at, strong);
         String record = x.record();
-        int due = DISTANCE[kind][at];
+        int due = table(kind)[at];
         Hall.submit(hall, record);
         Hall.due(record + ": distanceToMate", due, hall.distanceToMate());
-        int place = -1;
-        List<Integer> list = x.list();
-        for (int i = 0; i < list.size() && place < 0 && due > 0; i++) {
-            place = distance(x.after(list.get(i))) == due - 1 ? i : -1;
-        }
-        Hall.due(record + ": matingMove", place, hall.matingMove());
+        Hall.due(record + ": matingMove", matingPlace(x), hall.matingMove());
     }
 }
