@@ -641,6 +641,10 @@ public final class PromiseTest {
         mate("k7/8/8/8/4P3/8/8/K7 b - e3 0 1", Hall.with("k7/8/8/8/4P3/8/8/K7 b - - 0 1").distanceToMate(),
                 Hall.with("k7/8/8/8/4P3/8/8/K7 b - - 0 1").matingMove());
         mate("8/8/8/8/8/k7/p7/K7 w - - 0 1", -1, -1);
+        // Only a rook mates here, or mates so soon: a queen would be stalemate.
+        mate("8/1P6/k7/8/1K6/8/8/8 w - - 0 1", 13, 8);
+        mate("8/8/8/k7/8/K7/1p6/8 b - - 0 1", 13, 2);
+        mate("8/6P1/8/8/8/8/2K5/k7 w - - 0 1", 3, 8);
     }
 
     private static void matingMove() {
