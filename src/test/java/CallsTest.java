@@ -104,20 +104,12 @@ public final class CallsTest {
     private void ask(int call, int a) {
         int b = call == 13 ? random.nextInt(3) == 0 ? argument() : random.nextInt(8) : 0;
         int i = call == 13 && random.nextInt(2) == 0 ? model.status(3) - 1 : a;
-        String want = answer(() -> ofModel(call, i, b));
-        String got = answer(() -> ofHall(call, i, b));
+        String want = Hall.answer(() -> ofModel(call, i, b));
+        String got = Hall.answer(() -> ofHall(call, i, b));
         calls++;
         Hall.due(trail + " call " + call + "(" + i + ", " + b + ")", want, got);
         if (call >= 2 && call <= 4) {
             trail = "behind " + model.record() + ": ";
-        }
-    }
-
-    private static String answer(Hall.Call call) {
-        try {
-            return "" + call.run();
-        } catch (RuntimeException e) {
-            return e.getClass().getSimpleName();
         }
     }
 

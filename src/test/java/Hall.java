@@ -5,15 +5,23 @@ final class Hall {
     static final String START = "rnbqkbnr/pppppppp/8/8/8/8/PPPPPPPP/RNBQKBNR w KQkq - 0 1";
     private static int wrong = 0;
     private static int looked = 0;
+    private static int sentences = 0;
+    private static String heading = "";
 
     private Hall() {
+    }
+
+    /** The words of the document that the next answers belong to: they stand ahead of what is wrong. */
+    static void about(String words) {
+        sentences++;
+        heading = "[" + words + "] ";
     }
 
     static void due(String what, long want, long got) {
         looked++;
         if (want != got) {
             wrong++;
-            System.out.println(shortened(what) + " answered " + got + ", due is " + want);
+            System.out.println(heading + shortened(what) + " answered " + got + ", due is " + want);
         }
     }
 
@@ -21,12 +29,13 @@ final class Hall {
         looked++;
         if (!want.equals(got)) {
             wrong++;
-            System.out.println(shortened(what) + " answered " + got + ", due is " + want);
+            System.out.println(heading + shortened(what) + " answered " + got + ", due is " + want);
         }
     }
 
     static void end(String test) {
-        System.out.println(test + ": " + looked + " answers, " + wrong + " not as due");
+        String told = sentences == 0 ? "" : sentences + " sentences, ";
+        System.out.println(test + ": " + told + looked + " answers, " + wrong + " not as due");
         if (wrong != 0) {
             System.exit(1);
         }
@@ -49,7 +58,106 @@ final class Hall {
             got = "threw " + e.getClass().getName();
         }
         wrong++;
-        System.out.println(shortened(what) + " " + got + ", due is " + want.getName());
+        System.out.println(heading + shortened(what) + " " + got + ", due is " + want.getName());
+    }
+
+    /** Makes an object that has come to some state, the same one each time. */
+    interface Maker {
+        GameHall make();
+    }
+
+    /** A call of an object. */
+    interface Use {
+        long of(GameHall hall);
+    }
+
+    /** The call throws, and behind it the object tells what its twin tells that was not called so. */
+    static void refuses(String what, Maker maker, Class<? extends RuntimeException> want, Use use) {
+        GameHall hall = maker.make();
+        dueThrows(what, want, () -> use.of(hall));
+        dueTwin(what, hall, maker.make());
+    }
+
+    /** The call answers so much, and changes nothing. */
+    static void answers(String what, Maker maker, long want, Use use) {
+        GameHall hall = maker.make();
+        due(what, want, use.of(hall));
+        dueTwin(what, hall, maker.make());
+    }
+
+    private static void dueTwin(String what, GameHall hall, GameHall twin) {
+        due(what + ": all that is told behind it", told(twin), told(hall));
+        due(what + ": all that is told a move later", toldLater(twin), toldLater(hall));
+    }
+
+    /** What a game tells when it has gone on by a move, and when the move and another one are taken back. */
+    static String toldLater(GameHall hall) {
+        String word = answer(() -> hall.proceed(0));
+        String later = record(hall) + " " + hall.status(4) + " " + hall.status(11);
+        String back = " " + hall.retreat() + record(hall) + hall.retreat() + record(hall);
+        return word + " " + later + back;
+    }
+
+    /** An answer, or the name of what was thrown. */
+    static String answer(Call call) {
+        try {
+            return "" + call.run();
+        } catch (RuntimeException e) {
+            return e.getClass().getSimpleName();
+        }
+    }
+
+    /** All that an object tells, in some fifty calls and two for each legal move. */
+    static String told(GameHall hall) {
+        StringBuilder out = new StringBuilder();
+        for (int which = 0; which < 3; which++) {
+            out.append(hall.status(which)).append(' ');
+        }
+        return out.append(toldOfGame(hall)).toString();
+    }
+
+    /** All that does not hang on the tape and on the latest text. */
+    static String toldOfGame(GameHall hall) {
+        StringBuilder out = new StringBuilder(record(hall));
+        for (int which = 3; which < 15; which++) {
+            out.append(' ').append(hall.status(which));
+        }
+        int many = hall.legalMany();
+        out.append(" list ").append(many);
+        for (int i = 0; i < many; i++) {
+            out.append(' ').append(hall.legalMove(i)).append(text(hall.spelling(i)));
+        }
+        int last = hall.status(3) - 1;
+        for (int w = 0; w < 8 && last >= 0; w++) {
+            out.append(' ').append(hall.historyOf(0, w)).append(' ').append(hall.historyOf(last, w));
+        }
+        out.append(' ').append(answer(() -> hall.linesTo(1))).append(' ').append(answer(() -> hall.valueAt(1)));
+        out.append(' ').append(answer(() -> hall.bestAt(1))).append(' ').append(hall.manOn(4));
+        out.append(' ').append(answer(hall::distanceToMate)).append(' ').append(answer(hall::matingMove));
+        return out.toString();
+    }
+
+    /** A text that is refused by this fault at this move: the game stays, the tape is empty. */
+    static void refused(String text, int fault, int move) {
+        GameHall hall = with("4k3/8/8/8/3p4/8/4P3/4K3 w - - 5 7 e4");
+        String before = toldOfGame(hall);
+        due("submit of '" + text + "'", -1, submit(hall, text));
+        due("fault of '" + text + "'", fault, hall.status(1));
+        due("faulty move of '" + text + "'", move, hall.status(2));
+        due("tape behind '" + text + "'", 0, hall.status(0));
+        due("the game behind '" + text + "'", before, toldOfGame(hall));
+    }
+
+    /** A text that is right and has so many moves; the object that has taken it. */
+    static GameHall taken(String text, int moves) {
+        GameHall hall = with("4k3/8/8/8/3p4/8/4P3/4K3 w - - 5 7 e4");
+        due("submit of '" + text + "'", moves, submit(hall, text));
+        due("fault of '" + text + "'", 0, hall.status(1));
+        due("faulty move of '" + text + "'", -1, hall.status(2));
+        due("tape behind '" + text + "'", 0, hall.status(0));
+        due("positions of '" + text + "'", moves + 1, hall.status(3));
+        due("texts taken with '" + text + "'", 2, hall.status(13));
+        return hall;
     }
 
     private static String shortened(String what) {
@@ -117,15 +225,18 @@ final class Hall {
 
     static String record(GameHall hall) {
         StringBuilder out = new StringBuilder();
-        for (int k = 0; k < 16; k++) {
-            out.append(text(hall.recordAt(k)));
+        long word = hall.recordAt(0);
+        for (int k = 1; word != 0 && k < 16; k++) {
+            out.append(text(word));
+            word = hall.recordAt(k);
         }
         return out.toString();
     }
 
     static String spellings(GameHall hall) {
         StringBuilder out = new StringBuilder();
-        for (int i = 0; i < hall.legalMany(); i++) {
+        int many = hall.legalMany();
+        for (int i = 0; i < many; i++) {
             out.append(i == 0 ? "" : " ").append(text(hall.spelling(i)));
         }
         return out.toString();
@@ -133,7 +244,8 @@ final class Hall {
 
     /** The place of a move in the list by its spelling, or -1. */
     static int place(GameHall hall, String spelling) {
-        for (int i = 0; i < hall.legalMany(); i++) {
+        int many = hall.legalMany();
+        for (int i = 0; i < many; i++) {
             if (text(hall.spelling(i)).equals(spelling)) {
                 return i;
             }

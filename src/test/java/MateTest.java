@@ -115,12 +115,16 @@ public final class MateTest {
     private static short[] solve(int kind) {
         short[] known = new short[2 * 64 * 64 * 64];
         Arrays.fill(known, (short) -1);
-        for (int d = 0; d <= 70; d++) {
+        boolean grows = true;
+        // Each level rests on the one before, but a pawn's on those of a queen and a rook as well.
+        for (int d = 0; d <= 70 && (grows || kind == 1); d++) {
             int weakMoves = d % 2 == 0 ? 1 : 0;
+            grows = false;
             for (int at = weakMoves * 262144; at < (weakMoves + 1) * 262144; at++) {
                 if (known[at] < 0 && stands(kind, at)) {
                     boolean now = weakMoves == 1 ? lost(kind, at, d, known) : won(kind, at, d, known);
                     known[at] = (short) (now ? d : -1);
+                    grows |= now;
                 }
             }
         }

