@@ -12,6 +12,7 @@ public final class CallEdgeTest {
     private static final int MOST = Integer.MAX_VALUE;
     private static final String SHUFFLE = " Nf3 Nf6 Ng1 Ng8";
     private static final String SMALL = "4k3/8/8/8/3p4/8/4P3/4K3 w - - 5 7";
+    private static final String THIRTY_AND_MORE = "r3k2r/p1ppqpb1/bn2pnp1/3PN3/1p2P3/2N2Q1p/PPPBBPPP/R3K2R w KQkq - 0 1";
     /** Texts whose games have ended, by the verdicts 1 to 5, each by its last move. */
     private static final String[] ENDED = {
         Hall.START + " f3 e5 g4 Qh4#",
@@ -26,6 +27,8 @@ public final class CallEdgeTest {
     public static void main(String[] args) {
         manyCalls();
         firstException();
+        constant();
+        askingChangesNothing();
         newObject();
         slots();
         tapeOrder();
@@ -123,8 +126,46 @@ public final class CallEdgeTest {
         }
     }
 
+    private static void constant() {
+        Hall.about("The constants: NONE = -1: There is none.");
+        Hall.due("NONE", -1, GameHall.NONE);
+        Hall.due("no such square", GameHall.NONE, none().manOn(64));
+        Hall.due("no move with a fault", GameHall.NONE, none().status(2));
+        Hall.due("no text", GameHall.NONE, none().submit(20));
+    }
+
+    private static void askingChangesNothing() {
+        Hall.about("Nothing is promised beyond the answers and state changes described above");
+        String[] records = {"r3k2r/1P6/8/3pP3/8/8/8/R3K2R w KQkq d6 0 5", "r3k2r/8/8/8/3pP3/8/1p6/R3K2R b KQkq e3 0 5",
+            "4k3/8/8/8/8/8/4P3/4K3 w - - 3 9", "8/8/8/8/8/2k5/7R/2K5 b - - 3 9", "8/1P6/k7/8/1K6/8/8/8 w - - 0 1", THIRTY_AND_MORE};
+        for (String record : records) {
+            GameHall hall = Hall.with(record);
+            Oracle x = Oracle.read(record).game.get(0);
+            for (int i = 0; i < x.list().size(); i++) {
+                Hall.due("spelling " + i, x.spell(x.list().get(i)), Hall.text(hall.spelling(i)));
+            }
+            Hall.due("record behind all spellings", record, Hall.record(hall));
+            for (int depth = 0; depth <= 2; depth++) {
+                Hall.due("lines", x.lines(depth), hall.linesTo(depth));
+                Hall.due("record behind lines " + depth, record, Hall.record(hall));
+                Hall.due("value", x.value(depth), hall.valueAt(depth));
+                Hall.due("record behind value " + depth, record, Hall.record(hall));
+                Hall.due("best", x.best(depth), hall.bestAt(depth));
+                Hall.due("record behind best " + depth, record, Hall.record(hall));
+            }
+            hall.distanceToMate();
+            hall.matingMove();
+            Hall.due("record behind the distance", record, Hall.record(hall));
+            Hall.due("value behind all", x.value(0), hall.valueAt(0));
+            Hall.due("list behind all", x.list().size(), hall.legalMany());
+            Hall.due("rights behind all", x.rights, hall.status(6));
+            hall.proceed(0);
+            Hall.due("record behind a move", x.after(x.list().get(0)).record(), Hall.record(hall));
+        }
+    }
+
     private static void newObject() {
-        Hall.about("GameHall(int slots): No game, no text");
+        Hall.about("Promise 1: No game, no text.");
         GameHall hall = none();
         int[] due = {0, 0, -1, 0, -1, -1, -1, -1, -1, -1, 0, 0, 0, 0};
         for (int which = 0; which < due.length; which++) {
@@ -158,7 +199,7 @@ public final class CallEdgeTest {
     }
 
     private static void slots() {
-        Hall.about("slots, 0 .. 12 (others count as the nearest of these), changes nothing of what is told");
+        Hall.about("Promise 1: slots, 0 .. 12 (others count as the nearest of these), changes nothing of what is told");
         String due = "";
         for (int slots : new int[] {0, 1, 2, 6, 11, 12, -1, 13, 100, LEAST, MOST}) {
             GameHall hall = new GameHall(slots);
@@ -170,7 +211,7 @@ public final class CallEdgeTest {
     }
 
     private static void tapeOrder() {
-        Hall.about("Twenty bytes, of each number the highest first, come to the TAPE: true");
+        Hall.about("Promise 2: Twenty bytes, of each number the highest first, come to the TAPE: true");
         GameHall hall = none();
         Hall.due("tape", 1, hall.tape(0x382F382F, 0x382F382F, 0x382F326B, 0x352F3752, 0x2F324B35) ? 1 : 0);
         Hall.due("bytes", 20, hall.status(0));
@@ -188,7 +229,7 @@ public final class CallEdgeTest {
     }
 
     private static void tapeFull() {
-        Hall.about("false if it has 8180 or more");
+        Hall.about("Promise 2: false if it has 8180 or more");
         GameHall hall = none();
         for (int k = 0; k < 409; k++) {
             Hall.due("tape with " + 20 * k, 1, hall.tape(0x20202020, k, -k, 0, 1) ? 1 : 0);
@@ -210,7 +251,7 @@ public final class CallEdgeTest {
     }
 
     private static void fullTapeStaysAsItIs() {
-        Hall.about("What answers false changes nothing (the text on a full tape)");
+        Hall.about("What throws, or answers false, changes nothing.");
         String text = Hall.longText(600) + " nonsense".repeat(8180);
         GameHall hall = none();
         Hall.load(hall, text.substring(0, 8180));
@@ -224,7 +265,7 @@ public final class CallEdgeTest {
     }
 
     private static void submitCuts() {
-        Hall.about("The TAPE, but for its last 20 - n bytes (n 1 .. 20), is a TEXT");
+        Hall.about("Promise 3: The TAPE, but for its last 20 - n bytes (n 1 .. 20; ... is a TEXT");
         String text = Hall.START + SHUFFLE + " e4 e5 Nf3";
         for (int length = 1; length <= text.length(); length++) {
             Oracle.Reading due = Oracle.read(text.substring(0, length));
@@ -241,7 +282,7 @@ public final class CallEdgeTest {
     }
 
     private static void submitOfNothing() {
-        Hall.about("of an empty TAPE the TEXT is empty");
+        Hall.about("Promise 3: of an empty TAPE the TEXT is empty");
         for (int n = 1; n <= 20; n++) {
             GameHall hall = none();
             Hall.due("submit " + n, -1, hall.submit(n));
@@ -261,7 +302,7 @@ public final class CallEdgeTest {
     }
 
     private static void submitEmptiesTheTape() {
-        Hall.about("the TAPE is empty then");
+        Hall.about("Promise 3: the TAPE is empty then");
         for (String text : new String[] {SMALL, SMALL + " e4", "nonsense", SMALL + " e5", Hall.longText(600), Hall.longText(601)}) {
             GameHall hall = none();
             Hall.submit(hall, text);
@@ -274,7 +315,7 @@ public final class CallEdgeTest {
     }
 
     private static void submitTakes() {
-        Hall.about("If it is right there is a new game, and it stands behind all its moves: how many");
+        Hall.about("Promise 3: If it is right there is a new game, and it stands behind all its moves: how many");
         for (int moves : new int[] {0, 1, 2, 599, 600}) {
             GameHall hall = Hall.with(Hall.START + " e4 e5 Nf3");
             Hall.due("submit", moves, Hall.submit(hall, Hall.longText(moves)));
@@ -298,7 +339,7 @@ public final class CallEdgeTest {
     }
 
     private static void submitRefuses() {
-        Hall.about("NONE if it is refused: the game stays");
+        Hall.about("Promise 3: NONE if it is refused: the game stays");
         String kings = "4k3/8/8/8/8/8/8/4K3";
         String[] texts = {"", kings + " x", kings + " w x", kings + " w - x", kings + " w - - x", kings + " w - - 0 x",
             "8/8/8/8/8/8/8/8 w - - 0 1", "P3k3/8/8/8/8/8/8/4K3 w - - 0 1", kings + " w K - 0 1",
@@ -318,7 +359,7 @@ public final class CallEdgeTest {
     }
 
     private static void submitThrows() {
-        Hall.about("IllegalArgumentException if n is not 1 .. 20, whatever the TAPE has (it stays)");
+        Hall.about("Promise 3: IllegalArgumentException if n is not 1 .. 20, whatever the TAPE has (it stays)");
         Hall.Maker[] makers = {CallEdgeTest::none, () -> Hall.with(SMALL), () -> filled(none(), 1), () -> filled(none(), 409),
             () -> filled(Hall.with(SMALL), 2), () -> {
                 GameHall hall = Hall.with(SMALL + " e4");
@@ -344,7 +385,7 @@ public final class CallEdgeTest {
     }
 
     private static void proceedMakes() {
-        Hall.about("The i-th move of the LIST is made");
+        Hall.about("Promise 4: The i-th move of the LIST is made");
         int many = Hall.with(Hall.START).legalMany();
         for (int i = 0; i < many; i++) {
             GameHall hall = Hall.with(Hall.START);
@@ -358,7 +399,7 @@ public final class CallEdgeTest {
     }
 
     private static void proceedAnswers() {
-        Hall.about("proceed: the VERDICT");
+        Hall.about("Promise 4: is made: the VERDICT.");
         String[] texts = {Hall.START, Hall.START + " f3 e5 g4", "7k/8/6K1/8/8/8/8/5Q2 w - - 0 1", "4k3/8/8/8/8/8/3p4/4K3 w - - 0 1",
             Hall.START + SHUFFLE + SHUFFLE + SHUFFLE + " Nf3 Nf6 Ng1", "4k3/8/8/8/8/8/8/R3K3 w - - 149 80",
             Hall.START + SHUFFLE + " Nf3 Nf6 Ng1", "4k3/8/8/8/8/8/8/R3K3 w - - 99 80",
@@ -373,14 +414,14 @@ public final class CallEdgeTest {
     }
 
     private static void proceedWithoutGame() {
-        Hall.about("proceed: IllegalStateException if there is no game");
+        Hall.about("Promise 4: IllegalStateException if there is no game");
         Hall.refuses("no game", CallEdgeTest::none, STATE, h -> h.proceed(0));
         Hall.refuses("no game, but a tape", () -> filled(none(), 3), STATE, h -> h.proceed(0));
         Hall.due("a game", 0, Hall.with(SMALL).proceed(0));
     }
 
     private static void proceedBehindTheEnd() {
-        Hall.about("proceed: IllegalStateException if it has ended");
+        Hall.about("Promise 4: it has ended");
         for (int k = 0; k < ENDED.length; k++) {
             String text = ENDED[k];
             Hall.due("verdict of " + text, k + 1, Hall.with(text).status(4));
@@ -400,7 +441,7 @@ public final class CallEdgeTest {
     }
 
     private static void proceedBehindSixHundred() {
-        Hall.about("proceed: IllegalStateException if 600 moves stand in it (those taken back do not count)");
+        Hall.about("Promise 4: or 600 moves stand in it (those taken back do not count)");
         GameHall hall = Hall.with(Hall.longText(599));
         Hall.due("it goes on", 0, hall.status(4) >= 1 && hall.status(4) <= 5 ? 1 : 0);
         hall.proceed(0);
@@ -422,7 +463,7 @@ public final class CallEdgeTest {
     }
 
     private static void proceedOutside() {
-        Hall.about("proceed: IndexOutOfBoundsException if there is none such");
+        Hall.about("Promise 4: IndexOutOfBoundsException if there is none such");
         String only = "k7/8/8/8/8/8/p1K5/8 w - - 0 1";
         String[] texts = {Hall.START, SMALL, "7k/7P/8/8/8/8/8/K7 b - - 0 1", only};
         for (String text : texts) {
@@ -439,7 +480,7 @@ public final class CallEdgeTest {
     }
 
     private static void retreats() {
-        Hall.about("The latest move of the game is taken back: true");
+        Hall.about("Promise 5: The latest move of the game is taken back");
         String text = "r3k2r/1P6/8/3pP3/8/8/8/R3K2R w KQkq d6 0 5";
         for (String move : new String[] {"exd6", "bxa8Q+", "b8N", "0-0", "0-0-0", "Rxh8+", "Ke2", "e6"}) {
             GameHall hall = Hall.with(text);
@@ -459,7 +500,7 @@ public final class CallEdgeTest {
     }
 
     private static void retreatsFromTheEnd() {
-        Hall.about("(also when the game has ended: it goes on then)");
+        Hall.about("Promise 5: (also when the game has ended: it goes on then): true");
         for (String text : ENDED) {
             GameHall hall = Hall.with(text);
             String before = text.substring(0, text.lastIndexOf(' '));
@@ -472,7 +513,7 @@ public final class CallEdgeTest {
     }
 
     private static void retreatOfNone() {
-        Hall.about("false if there is none (or no game)");
+        Hall.about("Promise 5: false if there is none (or no game)");
         Hall.answers("no game", CallEdgeTest::none, 0, h -> h.retreat() ? 1 : 0);
         Hall.answers("no move", () -> Hall.with(SMALL), 0, h -> h.retreat() ? 1 : 0);
         Hall.answers("no move, ended", () -> Hall.with("7k/6Q1/6K1/8/8/8/8/8 b - - 0 1"), 0, h -> h.retreat() ? 1 : 0);
@@ -486,7 +527,7 @@ public final class CallEdgeTest {
     }
 
     private static void legalMany() {
-        Hall.about("How many moves the LIST has; 0 without a game");
+        Hall.about("Promise 6: How many moves the LIST has; 0 without a game");
         Hall.answers("no game", CallEdgeTest::none, 0, GameHall::legalMany);
         Hall.answers("mate", () -> Hall.with("7k/6Q1/6K1/8/8/8/8/8 b - - 0 1"), 0, GameHall::legalMany);
         Hall.answers("stalemate", () -> Hall.with("7k/5Q2/6K1/8/8/8/8/8 b - - 0 1"), 0, GameHall::legalMany);
@@ -497,7 +538,7 @@ public final class CallEdgeTest {
     }
 
     private static void legalMove() {
-        Hall.about("legalMove: IndexOutOfBoundsException if there is none such");
+        Hall.about("Promise 7: Move i of the LIST. IndexOutOfBoundsException if there is none such");
         for (String text : new String[] {Hall.START, SMALL, "7k/6Q1/6K1/8/8/8/8/8 b - - 0 1"}) {
             List<Integer> due = Oracle.read(text).game.get(0).list();
             for (int i : new int[] {-1, due.size(), due.size() + 1, 400, LEAST, MOST}) {
@@ -511,7 +552,7 @@ public final class CallEdgeTest {
     }
 
     private static void spelling() {
-        Hall.about("Its SPELLING: up to eight characters as the bytes of a long, the first one highest, 0 behind them."
+        Hall.about("Promise 8: Its SPELLING: up to eight characters as the bytes of a long, the first one highest, 0 behind them."
                 + " IndexOutOfBoundsException if there is none such");
         Hall.due("two characters", 0x6134000000000000L, spelled(Hall.START, "a4"));
         Hall.due("three characters", 0x4E61330000000000L, spelled(Hall.START, "Na3"));
@@ -538,7 +579,7 @@ public final class CallEdgeTest {
     }
 
     private static void recordWords() {
-        Hall.about("Eight characters 8 * k .. 8 * k + 7 of the position's RECORD, likewise; 0 where there are none");
+        Hall.about("Promise 9: Eight characters 8 * k .. 8 * k + 7 of the position's RECORD, likewise; 0 where there are none");
         String[] records = {"8/8/8/8/8/2k5/7R/2K5 w - - 0 1", "8/8/8/8/8/2k5/7R/2K5 w - - 0 10", "8/8/8/8/8/2k5/7R/2K5 w - - 0 100",
             "8/8/8/8/8/2k5/7R/2K5 w - - 10 100", "8/8/8/8/8/2k5/6R1/2K5 w - - 10 100", Hall.START,
             "r1b1k1nr/p1p1p1p1/1p1p1p1p/R1B1Q1N1/P1P1P1P1/1P1P1P1P/N1B5/R3K2q w Qkq - 999 9999"};
@@ -556,7 +597,7 @@ public final class CallEdgeTest {
     }
 
     private static void recordOutside() {
-        Hall.about("(so for k below 0), or without a game");
+        Hall.about("Promise 9: (so for k below 0), or without a game");
         for (int k : new int[] {-1, -2, -8, LEAST, LEAST / 8, MOST, MOST / 8, MOST / 8 + 1, 1 << 29, 7, 8, 12, 13, 100}) {
             Hall.answers("recordAt " + k, () -> Hall.with(Hall.START), 0, h -> h.recordAt(k));
             Hall.answers("recordAt " + k + " without a game", CallEdgeTest::none, 0, h -> h.recordAt(k));
@@ -567,7 +608,7 @@ public final class CallEdgeTest {
     }
 
     private static void recordBeyondATexts() {
-        Hall.about("(Its CLOCK and NUMBER can be more than a text may say.)");
+        Hall.about("Promise 9: (Its CLOCK and NUMBER can be more than a text may say.)");
         String men = "r3k3/8/8/8/8/8/8/4K2R";
         Hall.due("9999", men.replace("r3k3/8", "4k3/r7") + " w - - 1 9999",
                 Hall.record(Hall.with(men + " b - - 0 9998 Ra7")));
@@ -581,7 +622,7 @@ public final class CallEdgeTest {
     }
 
     private static void manOn() {
-        Hall.about("The man on a square of the position; NONE if there is none such, or no game");
+        Hall.about("Promise 10: The man on a square of the position; NONE if there is none such, or no game");
         String text = "rnbqkbnr/p7/8/8/8/8/P7/RNBQKBNR w KQkq - 0 1";
         int[] first = {4, 2, 3, 5, 6, 3, 2, 4, 1, 0};
         int[] last = {7, 0, 0, 0, 0, 0, 0, 0, 10, 8, 9, 11, 12, 9, 8, 10};
@@ -601,8 +642,8 @@ public final class CallEdgeTest {
     }
 
     private static void historyFacts() {
-        Hall.about("w = 0: its COUNT, 1: its CLOCK, 2: its VERDICT, 3: the move that led to it (NONE for the first), 4: how many"
-                + " LEGAL moves it has, 5: 1 if the king of the side to move is ATTACKED, 7: the file on which a LEGAL move takes"
+        Hall.about("Promise 16: Of position i of the game, from 0 on: w = 0: its COUNT, 1: its CLOCK, 2: its VERDICT, 3: the move that led to it (NONE for the first), 4: how many"
+                + " LEGAL moves it has, 5: 1 if the king of the side to move is ATTACKED, ... 7: the file on which a LEGAL move takes"
                 + " IN PASSING, NONE without one");
         String[] texts = {SMALL + " e4 dxe3 Kd1 Kd8", Hall.START + SHUFFLE + SHUFFLE + " f3 e5 g4 Qh4#",
             "4k3/8/8/8/3p4/8/4P3/R3K3 w Q - 99 1 Ra8+ Kd7 Ra1 Ke8 e4 Kd7", "4k3/8/8/3pP3/8/8/8/4K3 w - d6 0 1 Kd1 Kd8 e6 Ke7",
@@ -622,7 +663,7 @@ public final class CallEdgeTest {
     }
 
     private static void historyFirst() {
-        Hall.about("6: the first position of the game that is the same (i, if none ahead of it is)");
+        Hall.about("Promise 16: 6: the first position of the game that is the same (i, if none ahead of it is)");
         GameHall hall = Hall.with(Hall.START + " e4 e5" + SHUFFLE + SHUFFLE + " d4");
         int[] due = {0, 1, 2, 3, 4, 5, 2, 3, 4, 5, 2, 11};
         for (int i = 0; i < due.length; i++) {
@@ -631,7 +672,7 @@ public final class CallEdgeTest {
     }
 
     private static void historyOutside() {
-        Hall.about("historyOf: IndexOutOfBoundsException if there is none such, or no such w");
+        Hall.about("Promise 16: IndexOutOfBoundsException if there is none such, or no such w");
         String text = SMALL + " e4 dxe3";
         int[][] outside = {{-1, 0}, {3, 0}, {4, 7}, {0, -1}, {0, 8}, {2, 8}, {2, -1}, {LEAST, 0}, {MOST, 0}, {0, LEAST}, {0, MOST},
             {-1, 8}, {3, -1}, {-1, -1}, {-1, 8}, {1 << 29, 0}, {1 << 29, 7}};
@@ -653,7 +694,7 @@ public final class CallEdgeTest {
     }
 
     private static void statusOfTexts() {
-        Hall.about("1: the fault of the latest TEXT that was read, whatever was called since (0 without one), 2: the number of"
+        Hall.about("Promise 17: 1: the fault of the latest TEXT that was read, whatever was called since (0 without one), 2: the number of"
                 + " the move with the fault, from 0 on (NONE if it was in the RECORD, or there was none)");
         faultStays(none(), 0, -1);
         GameHall hall = Hall.with(SMALL);
@@ -700,9 +741,9 @@ public final class CallEdgeTest {
     }
 
     private static void statusOfGames() {
-        Hall.about("0: bytes on the TAPE, 3: positions of the game (0 without one), 4: VERDICT (NONE without a game), 5: SIDE,"
+        Hall.about("Promise 17: which 0: bytes on the TAPE, ... 3: positions of the game (0 without one), 4: VERDICT (NONE without a game), 5: SIDE,"
                 + " 6: RIGHTS, 7: PASSANT, 8: CLOCK, 9: NUMBER (5 to 9 of the position; NONE without a game),"
-                + " 10: men on the board (0 without a game), 13: texts that were taken");
+                + " 10: men on the board, ... 13: texts that were taken");
         GameHall hall = none();
         int[] without = {0, 0, -1, 0, -1, -1, -1, -1, -1, -1, 0, 0, 0, 0};
         int[] with = {0, 0, -1, 2, 0, 1, 0, 4, 0, 7, 4, 2, 1, 1};
@@ -728,7 +769,7 @@ public final class CallEdgeTest {
     }
 
     private static void statusOfCounts() {
-        Hall.about("11: how many different positions the game has (those whose COUNT is 1), 12: the greatest COUNT"
+        Hall.about("Promise 17: 11: how many different positions the game has (those whose COUNT is 1), 12: the greatest COUNT"
                 + " (10 to 12: 0 without a game)");
         GameHall hall = Hall.with(Hall.START);
         String[] moves = {"Nf3", "Nf6", "Ng1", "Ng8"};
@@ -754,7 +795,7 @@ public final class CallEdgeTest {
     }
 
     private static void statusOutside() {
-        Hall.about("status: NONE for any other which");
+        Hall.about("Promise 17: NONE for any other which");
         for (int which : new int[] {-1, 14, 15, 16, 20, 100, LEAST, MOST}) {
             Hall.answers("status " + which, () -> Hall.with(SMALL), -1, h -> h.status(which));
             Hall.answers("status " + which + " without a game", CallEdgeTest::none, -1, h -> h.status(which));

@@ -1,4 +1,5 @@
 import java.nio.charset.StandardCharsets;
+import java.util.Arrays;
 
 /** What the tests do with a GameHall again and again, and how they count what is wrong. */
 final class Hall {
@@ -137,8 +138,59 @@ final class Hall {
         return out.toString();
     }
 
-    /** A text that is refused by this fault at this move: the game stays, the tape is empty. */
+    /** The same with white and black changed, the board turned over: a record, and moves behind it. */
+    static String mirrored(String text) {
+        String[] parts = text.split(" ", -1);
+        StringBuilder out = new StringBuilder();
+        String[] ranks = parts[0].split("/", -1);
+        for (int k = ranks.length - 1; k >= 0; k--) {
+            out.append(otherCase(ranks[k])).append(k > 0 ? "/" : "");
+        }
+        String rights = otherCase(parts[2]);
+        out.append(parts[1].equals("w") ? " b " : " w ");
+        for (String right : new String[] {"K", "Q", "k", "q", "-"}) {
+            out.append(rights.contains(right) ? right : "");
+        }
+        out.append(' ').append(parts[3].replace('3', '*').replace('6', '3').replace('*', '6'));
+        out.append(' ').append(parts[4]).append(' ').append(parts[5]);
+        for (int k = 6; k < parts.length; k++) {
+            out.append(' ').append(otherRanks(parts[k]));
+        }
+        return out.toString();
+    }
+
+    private static String otherCase(String word) {
+        StringBuilder out = new StringBuilder();
+        for (char sign : word.toCharArray()) {
+            out.append(Character.isUpperCase(sign) ? Character.toLowerCase(sign) : Character.toUpperCase(sign));
+        }
+        return out.toString();
+    }
+
+    /** The ranks of a move, or of squares, as the other side sees them. */
+    static String otherRanks(String word) {
+        StringBuilder out = new StringBuilder();
+        for (char sign : word.toCharArray()) {
+            out.append(sign >= '1' && sign <= '8' ? (char) ('1' + '8' - sign) : sign);
+        }
+        return out.toString();
+    }
+
+    private static boolean hasRightRecord(String text) {
+        String[] parts = text.split(" ", -1);
+        return parts.length >= 6 && Oracle.read(String.join(" ", Arrays.copyOf(parts, 6))).fault == 0;
+    }
+
+    /** A text that is refused by this fault at this move; with the sides changed, too, if only a move is at fault. */
     static void refused(String text, int fault, int move) {
+        refusedAsItIs(text, fault, move);
+        if (hasRightRecord(text)) {
+            refusedAsItIs(mirrored(text), fault, move);
+        }
+    }
+
+    /** The game stays, the tape is empty. */
+    private static void refusedAsItIs(String text, int fault, int move) {
         GameHall hall = with("4k3/8/8/8/3p4/8/4P3/4K3 w - - 5 7 e4");
         String before = toldOfGame(hall);
         due("submit of '" + text + "'", -1, submit(hall, text));
@@ -148,8 +200,13 @@ final class Hall {
         due("the game behind '" + text + "'", before, toldOfGame(hall));
     }
 
-    /** A text that is right and has so many moves; the object that has taken it. */
+    /** A text that is right and has so many moves; the object that has taken it. So with the sides changed. */
     static GameHall taken(String text, int moves) {
+        takenAsItIs(mirrored(text), moves);
+        return takenAsItIs(text, moves);
+    }
+
+    private static GameHall takenAsItIs(String text, int moves) {
         GameHall hall = with("4k3/8/8/8/3p4/8/4P3/4K3 w - - 5 7 e4");
         due("submit of '" + text + "'", moves, submit(hall, text));
         due("fault of '" + text + "'", 0, hall.status(1));

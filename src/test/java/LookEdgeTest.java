@@ -51,7 +51,7 @@ public final class LookEdgeTest {
     }
 
     private static void linesOfNone() {
-        Hall.about("How many lines of depth LEGAL moves there are (1 for 0)");
+        Hall.about("Promise 11: How many lines of depth LEGAL moves there are (1 for 0)");
         String[] texts = {Hall.START, MATE, STALEMATE, QUEEN, THIRTY, "8/8/8/4k3/8/8/8/K7 w - - 0 1"};
         for (String text : texts) {
             Hall.answers("lines 0", at(text), 1, h -> h.linesTo(0));
@@ -70,7 +70,7 @@ public final class LookEdgeTest {
     }
 
     private static void linesDepth() {
-        Hall.about("linesTo: IllegalArgumentException if depth is not 0 .. 2, or 3");
+        Hall.about("Promise 11: IllegalArgumentException if depth is not 0 .. 2");
         for (String text : new String[] {Hall.START, MATE, QUEEN, THIRTY, THIRTY_ONE}) {
             for (int depth : new int[] {-1, 4, 5, -2, 100, LEAST, MOST}) {
                 Hall.refuses("lines " + depth + " of " + text, at(text), ARGUMENT, h -> h.linesTo(depth));
@@ -82,7 +82,7 @@ public final class LookEdgeTest {
     }
 
     private static void linesThree() {
-        Hall.about("linesTo: or 3, where the LIST has at most 30 moves");
+        Hall.about("Promise 11: or 3, where the LIST has at most 30 moves");
         Hall.due("moves", 30, Hall.with(THIRTY).legalMany());
         Hall.due("moves", 31, Hall.with(THIRTY_ONE).legalMany());
         Hall.answers("30 moves", at(THIRTY), Oracle.read(THIRTY).game.get(0).lines(3), h -> h.linesTo(3));
@@ -98,7 +98,7 @@ public final class LookEdgeTest {
     }
 
     private static void noGame() {
-        Hall.about("linesTo, valueAt, bestAt, distanceToMate, matingMove: IllegalStateException if there is no game");
+        Hall.about("Promises 11 to 15: IllegalStateException if there is no game");
         for (int depth : new int[] {0, 1, 2, 3, 4, 5, -1}) {
             Hall.refuses("lines " + depth, () -> new GameHall(1), STATE, h -> h.linesTo(depth));
             Hall.refuses("value " + depth, () -> new GameHall(1), STATE, h -> h.valueAt(depth));
@@ -114,8 +114,11 @@ public final class LookEdgeTest {
         Hall.due("mating move with a game", 1, hall.matingMove() >= 0 ? 1 : 0);
     }
 
+    /** The value is the same with the sides changed. */
     private static void value(String text, int depth, int due) {
         Hall.answers("value " + depth + " of " + text, at(text), due, h -> h.valueAt(depth));
+        String other = Hall.mirrored(text);
+        Hall.due("value " + depth + " of " + other, due, Hall.with(other).valueAt(depth));
     }
 
     private static void valueOfMate() {
@@ -211,7 +214,7 @@ public final class LookEdgeTest {
     }
 
     private static void valueDepth() {
-        Hall.about("valueAt: IllegalArgumentException if depth is not 0 .. 2, or 3");
+        Hall.about("Promise 12: IllegalArgumentException if depth is not 0 .. 2");
         String four = "7k/p7/8/8/8/8/8/KR6 w - - 0 1";
         for (String text : new String[] {Hall.START, THIRTY, THIRTY_ONE, four}) {
             for (int depth : new int[] {-1, 4, 5, -4, 100, LEAST, MOST}) {
@@ -224,7 +227,7 @@ public final class LookEdgeTest {
     }
 
     private static void valueThree() {
-        Hall.about("valueAt: or 3, where the LIST has at most 30 moves");
+        Hall.about("Promise 12: or 3, where the LIST has at most 30 moves");
         value(THIRTY, 3, Oracle.read(THIRTY).game.get(0).value(3));
         Hall.refuses("value 3 of 31 moves", at(THIRTY_ONE), ARGUMENT, h -> h.valueAt(3));
         Hall.refuses("best 3 of 31 moves", at(THIRTY_ONE), ARGUMENT, h -> h.bestAt(3));
@@ -232,7 +235,7 @@ public final class LookEdgeTest {
     }
 
     private static void valueThreeMen() {
-        Hall.about("valueAt: or with at most three men 0 .. 4");
+        Hall.about("Promise 12: or with at most three men 0 .. 4");
         String two = "8/8/8/4k3/8/8/8/K7 w - - 0 1";
         String rook = "8/8/8/8/8/2k5/7R/2K5 w - - 0 1";
         Hall.due("more than 30 moves with three men", 1, Hall.with(QUEEN).legalMany() > 30 ? 1 : 0);
@@ -290,7 +293,7 @@ public final class LookEdgeTest {
     }
 
     private static void bestOfNone() {
-        Hall.about("The place of the BEST move in the LIST; NONE if it is empty, or depth is 0");
+        Hall.about("Promise 13: The place of the BEST move in the LIST; NONE if it is empty, or depth is 0");
         for (int depth = 0; depth <= 4; depth++) {
             int d = depth;
             Hall.answers("best " + d + " of mate", at(MATE), -1, h -> h.bestAt(d));
@@ -303,7 +306,7 @@ public final class LookEdgeTest {
     }
 
     private static void bestDepth() {
-        Hall.about("bestAt: Throws as valueAt()");
+        Hall.about("Promise 13: Throws as valueAt()");
         for (String text : new String[] {Hall.START, THIRTY, THIRTY_ONE, MATE, QUEEN}) {
             for (int depth = -2; depth <= 6; depth++) {
                 int d = depth;
@@ -318,13 +321,17 @@ public final class LookEdgeTest {
         }
     }
 
+    /** With the sides changed the distance is the same; the list is in another order then. */
     private static void mate(String text, int distance, int place) {
         Hall.answers("distance of " + text, at(text), distance, GameHall::distanceToMate);
         Hall.answers("mating move of " + text, at(text), place, GameHall::matingMove);
+        Oracle other = Oracle.read(Hall.mirrored(text)).game.get(0);
+        Hall.due("distance of " + other.record(), distance, Hall.with(other.record()).distanceToMate());
+        Hall.due("mating move of " + other.record(), MateTest.matingPlace(other), Hall.with(other.record()).matingMove());
     }
 
     private static void distanceOfMate() {
-        Hall.about("The DISTANCE of a position with two kings and one man besides: mate has 0");
+        Hall.about("mate has 0");
         mate(MATE, 0, -1);
         mate("8/8/8/8/8/6k1/6q1/7K w - - 0 1", 0, -1);
         mate("8/8/8/8/8/5K2/8/5k1R b - - 0 1", 0, -1);
@@ -424,7 +431,7 @@ public final class LookEdgeTest {
 
     private static void distanceOfNone() {
         Hall.about("All other positions have none. (What has one at all is what is so by finitely many such steps.)"
-                + " NONE if it has none");
+                + " ... NONE if it has none");
         for (String man : new String[] {"B", "N", "b", "n"}) {
             for (String side : new String[] {"w", "b"}) {
                 mate("8/8/8/8/8/2k5/8/K6" + man + " " + side + " - - 0 1", -1, -1);
@@ -466,7 +473,7 @@ public final class LookEdgeTest {
     }
 
     private static void matingMoveOfNone() {
-        Hall.about("The place of the MATING move in the LIST; NONE if there is none");
+        Hall.about("Promise 15: The place of the MATING move in the LIST; NONE if there is none");
         for (String text : new String[] {MATE, STALEMATE, Hall.START, "8/8/8/8/8/2k5/8/2K5 w - - 0 1", "8/8/8/8/8/2k5/7B/2K5 w - - 0 1",
             "8/8/8/8/8/8/1k6/R5K1 b - - 0 1", "4k3/8/8/8/8/8/8/4K2R w K - 0 1"}) {
             Hall.answers("mating move of " + text, at(text), -1, GameHall::matingMove);

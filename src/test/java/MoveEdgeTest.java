@@ -1,8 +1,9 @@
+import java.util.Arrays;
 import java.util.List;
 
 /**
- * The document's sentences on SQUARES, ATTACKED, MOVE, LEGAL, what a move changes, LIST and SPELLING:
- * a test for each, on both sides of its boundary.
+ * The document's sentences on SQUARES, ATTACKED, MOVE, LEGAL, what a move changes and LIST: a test for
+ * each, on both sides of its boundary.
  */
 public final class MoveEdgeTest {
     private static final Desk DESK = new Desk();
@@ -13,6 +14,11 @@ public final class MoveEdgeTest {
 
     public static void main(String[] args) {
         squares();
+        filesAndRanks();
+        men();
+        sideToMove();
+        sumOfRights();
+        passantFile();
         attackedByOne();
         nothingBetween();
         moveNumber();
@@ -29,6 +35,8 @@ public final class MoveEdgeTest {
         castlingBetween();
         castlingAttacked();
         legal();
+        pins();
+        pinsComeAndGo();
         kingRightsGo();
         cornerRightsGo();
         passantOfTwoRanks();
@@ -36,11 +44,6 @@ public final class MoveEdgeTest {
         clock();
         number();
         listOrder();
-        castlingSpelled();
-        manSpelled();
-        pawnSpelled();
-        checkSpelled();
-        origin();
         Hall.end("MoveEdgeTest");
     }
 
@@ -58,12 +61,18 @@ public final class MoveEdgeTest {
         return out.toString();
     }
 
+    /** With the sides changed the man goes to the same squares, as the other side sees them. */
     private static void goes(String record, String from, String due) {
         Hall.due(from + " in " + record, due, goals(Hall.with(record), from));
+        String other = Hall.mirrored(record);
+        String back = Hall.otherRanks(goals(Hall.with(other), Hall.otherRanks(from)));
+        Hall.due(from + " in " + record + " for the other side", sorted(due), sorted(back));
     }
 
-    private static int square(String name) {
-        return name.charAt(0) - 'a' + 8 * (name.charAt(1) - '1');
+    private static String sorted(String words) {
+        String[] parts = words.split(" ");
+        Arrays.sort(parts);
+        return String.join(" ", parts);
     }
 
     private static Oracle empty(int side) {
@@ -100,6 +109,76 @@ public final class MoveEdgeTest {
         for (int square : new int[] {1, 5, 9, 14, 16, 47, 49, 54, 57, 61}) {
             Hall.due("man on " + square, 0, hall.manOn(square));
         }
+    }
+
+    private static void filesAndRanks() {
+        Hall.about("square s has the file s % 8 (a .. h) and the rank s / 8 (1 .. 8).");
+        for (int square = 0; square < 64; square++) {
+            Oracle x = empty(0);
+            int[] kings = twoAside(square, 4);
+            x.men[square] = 4;
+            x.men[kings[0]] = 6;
+            x.men[kings[1]] = 12;
+            GameHall hall = Hall.with(x.record());
+            Hall.due("man on " + square, 4, hall.manOn(square));
+            int many = hall.legalMany();
+            for (int i = 0; i < many; i++) {
+                int to = hall.legalMove(i) >> 6;
+                String name = "" + "abcdefgh".charAt(to % 8) + "12345678".charAt(to / 8);
+                Hall.due("square " + to, name, Hall.text(hall.spelling(i)).replaceAll("[KRx+#]", ""));
+            }
+        }
+    }
+
+    private static void men() {
+        Hall.about("A square has 0 (empty) or a MAN: 1 .. 6 white pawn, knight, bishop, rook, queen, king,"
+                + " 7 .. 12 the black ones.");
+        GameHall hall = Hall.with("7k/8/8/pnbrq3/PNBRQ3/8/8/7K w - - 0 1");
+        for (int k = 0; k < 5; k++) {
+            Hall.due("white man " + k, k + 1, hall.manOn(24 + k));
+            Hall.due("black man " + k, k + 7, hall.manOn(32 + k));
+        }
+        Hall.due("white king", 6, hall.manOn(7));
+        Hall.due("black king", 12, hall.manOn(63));
+        Hall.due("empty", 0, hall.manOn(29));
+    }
+
+    private static void sideToMove() {
+        Hall.about("a SIDE to move (0 white, 1 black)");
+        String men = "4k3/4p3/8/8/8/8/4P3/4K3";
+        Hall.due("white", 0, Hall.with(men + " w - - 0 1").status(5));
+        Hall.due("black", 1, Hall.with(men + " b - - 0 1").status(5));
+        goes(men + " w - - 0 1", "e7", "");
+        goes(men + " b - - 0 1", "e7", "e5 e6");
+        goes(men + " w - - 0 1", "e2", "e3 e4");
+        goes(men + " b - - 0 1", "e2", "");
+    }
+
+    private static void sumOfRights() {
+        Hall.about("RIGHTS to castle (the sum of 1 for white's king's side, 2 queen's, 4 for black's king's, 8 queen's side)");
+        for (int rights = 0; rights < 16; rights++) {
+            Oracle x = Oracle.copy(Oracle.read(ROOKS + " w KQkq - 0 1").game.get(0));
+            x.rights = rights;
+            Hall.due("rights", rights, Hall.with(x.record()).status(6));
+            castlingDue(x, true, (rights & 1) != 0);
+            castlingDue(x, false, (rights & 2) != 0);
+            x.side = 1;
+            castlingDue(x, true, (rights & 4) != 0);
+            castlingDue(x, false, (rights & 8) != 0);
+        }
+    }
+
+    private static void passantFile() {
+        Hall.about("a PASSANT file 0 .. 7 or NONE, a CLOCK and a NUMBER");
+        String men = "4k3/8/8/pppppppp/PPPPPPPP/8/8/4K3";
+        for (int file = 0; file < 8; file++) {
+            Hall.due("white to move", file, Hall.with(men + " w - " + "abcdefgh".charAt(file) + "6 0 17").status(7));
+            Hall.due("black to move", file, Hall.with(men + " b - " + "abcdefgh".charAt(file) + "3 0 17").status(7));
+        }
+        GameHall hall = Hall.with(men + " w - - 31 17");
+        Hall.due("none", -1, hall.status(7));
+        Hall.due("clock", 31, hall.status(8));
+        Hall.due("number", 17, hall.status(9));
     }
 
     /** Whether a man on a strikes b on an empty board, by the words of the document. */
@@ -213,6 +292,12 @@ public final class MoveEdgeTest {
             Hall.due("move " + i + " made", due[i], hall.historyOf(1, 3));
             Hall.due("man behind move " + i, Math.max(1, due[i] / 4096), hall.manOn(i < 3 ? 48 : 56));
             hall.retreat();
+        }
+        String[] become = {"N", "B", "R", "Q"};
+        for (int k = 0; k < 4; k++) {
+            GameHall black = Hall.with("k7/8/8/8/8/8/7p/K5N1 b - - 0 1");
+            Hall.play(black, "h1" + become[k]);
+            Hall.due("black's man " + become[k], 8 + k, black.manOn(7));
         }
     }
 
@@ -381,7 +466,7 @@ public final class MoveEdgeTest {
     }
 
     private static void inPassingOnce() {
-        Hall.about("The PASSANT is the file of a pawn that went two ranks (and of the latest move alone)");
+        Hall.about("The PASSANT is the file of a pawn that went two ranks");
         GameHall hall = Hall.with("4k3/8/8/8/3p4/8/4P3/4K3 w - - 0 1 e4");
         Hall.due("at once", 4, hall.historyOf(1, 7));
         Hall.play(hall, "Kd8");
@@ -417,7 +502,7 @@ public final class MoveEdgeTest {
     }
 
     private static void castlingSquares() {
-        Hall.about("a king CASTLING: from its own square two files to the side; the rook comes to the square that is passed");
+        Hall.about("a king CASTLING: from its own square two files to the side, ... the rook comes to the square that is passed");
         String[] due = {"R4RK1", "2KR3R", "r4rk1", "2kr3r"};
         for (int k = 0; k < 4; k++) {
             String side = k < 2 ? "w" : "b";
@@ -465,8 +550,8 @@ public final class MoveEdgeTest {
     }
 
     private static void castlingAttacked() {
-        Hall.about("and neither the king's square nor the one it passes is ATTACKED by the other side;"
-                + " LEGAL if the king is not ATTACKED when it has been made");
+        Hall.about("and neither the king's square nor the one it passes is ATTACKED by the other side; ... "
+                + "LEGAL if the king is not ATTACKED when it has been made");
         for (int side = 0; side < 2; side++) {
             for (int way = 0; way < 2; way++) {
                 boolean kingSide = way == 0;
@@ -511,8 +596,71 @@ public final class MoveEdgeTest {
         goes("7k/8/8/3pP3/4K3/8/8/8 w - - 0 1", "e5", "");
     }
 
+    private static void pins() {
+        Hall.about("It is LEGAL if the king is not ATTACKED when it has been made");
+        int[] steps = {8, -8, 1, -1, 9, -9, 7, -7};
+        for (int king = 0; king < 64; king++) {
+            for (int step : steps) {
+                int reach = reach(king, step);
+                for (int far = 2; far <= reach; far++) {
+                    for (int near = 1; near < far; near++) {
+                        pin(king, king + near * step, king + far * step);
+                    }
+                }
+            }
+        }
+    }
+
+    /** How many steps there are to the edge of the board. */
+    private static int reach(int from, int step) {
+        int reach = 0;
+        int at = from;
+        while (at + step >= 0 && at + step < 64 && Math.abs((at + step) % 8 - at % 8) <= 1) {
+            at += step;
+            reach++;
+        }
+        return reach;
+    }
+
+    /** A queen or a knight between its king and a man of the other side on one line. */
+    private static void pin(int king, int shield, int far) {
+        for (int kind = 3; kind <= 5; kind++) {
+            for (int own = 0; own < 2; own++) {
+                Oracle x = empty(own);
+                x.men[king] = 6 + 6 * own;
+                x.men[shield] = (king + far) % 3 == 0 ? 2 + 6 * own : 5 + 6 * own;
+                x.men[far] = kind + 6 - 6 * own;
+                int other = aside(x, king);
+                x.men[other] = 12 - 6 * own;
+                if (x.attacked(other, own)) {
+                    continue;
+                }
+                GameHall hall = DESK.read(x.record());
+                Hall.due("moves of " + x.record(), x.list().size(), hall.legalMany());
+                Hall.due("last move of " + x.record(), x.list().get(x.list().size() - 1), hall.legalMove(x.list().size() - 1));
+            }
+        }
+    }
+
+    private static void pinsComeAndGo() {
+        Hall.about("It is LEGAL if the king is not ATTACKED when it has been made");
+        GameHall hall = Hall.with("4r2k/8/8/8/8/8/4N3/4K3 w - - 0 1");
+        Hall.due("pinned", "", goals(hall, "e2"));
+        Hall.play(hall, "Kd1");
+        Hall.play(hall, "Kg8");
+        Hall.due("pinned no longer", "c1 g1 c3 g3 d4 f4", goals(hall, "e2"));
+        hall.retreat();
+        hall.retreat();
+        Hall.due("pinned again", "", goals(hall, "e2"));
+        Hall.submit(hall, "6k1/8/8/8/8/8/4N3/4K2R w K - 0 1");
+        Hall.due("another game", "c1 g1 c3 g3 d4 f4", goals(hall, "e2"));
+    }
+
     private static void rightsDue(String moves, int due) {
-        Hall.due("rights behind " + moves, due, Hall.with(ROOKS + " w KQkq - 0 1 " + moves).status(6));
+        String text = ROOKS + " w KQkq - 0 1 " + moves;
+        Hall.due("rights behind " + moves, due, Hall.with(text).status(6));
+        Hall.due("rights behind " + moves + " of the other side", due >> 2 | (due & 3) << 2,
+                Hall.with(Hall.mirrored(text)).status(6));
     }
 
     private static void kingRightsGo() {
@@ -548,11 +696,38 @@ public final class MoveEdgeTest {
         Hall.due("a bishop takes on a8", 7, Hall.with("r3k2r/8/8/8/4B3/8/8/R3K2R w KQkq - 0 1 Bxa8").status(6));
         Hall.due("a pawn becomes on a8", 7, Hall.with("r3k2r/1P6/8/8/8/8/8/R3K2R w KQkq - 0 1 bxa8N").status(6));
         Hall.due("a pawn becomes on h1", 14, Hall.with("r3k2r/8/8/8/8/8/6p1/R3K2R b KQkq - 0 1 gxh1B").status(6));
-        Hall.due("beside the corners", 15, Hall.with("r3k2r/1n6/8/8/8/8/1N6/R3K2R w KQkq - 0 1 Nc4 Nc5").status(6));
+        for (int side = 0; side < 2; side++) {
+            for (int from = 0; from < 64; from++) {
+                knightsLeaveRights(side, from);
+            }
+        }
+    }
+
+    /** From and to all other squares a knight's move takes no right away. */
+    private static void knightsLeaveRights(int side, int from) {
+        Oracle x = Oracle.copy(Oracle.read(ROOKS + " w KQkq - 0 1").game.get(0));
+        if (x.men[from] != 0) {
+            return;
+        }
+        x.side = side;
+        x.men[from] = 2 + 6 * side;
+        if (x.attacked(x.king(1 - side), side)) {
+            return;
+        }
+        for (int move : x.list()) {
+            int to = move >> 6 & 63;
+            if ((move & 63) == from) {
+                int gone = to == 7 ? 1 : to == 0 ? 2 : to == 63 ? 4 : to == 56 ? 8 : 0;
+                String text = x.record() + " " + x.spell(move);
+                Hall.due("rights behind " + text, 15 - gone, DESK.read(text).status(6));
+            }
+        }
     }
 
     private static void passantDue(String record, String move, int due) {
         Hall.due("passant behind " + move + " in " + record, due, Hall.with(record + " " + move).status(7));
+        String other = Hall.mirrored(record + " " + move);
+        Hall.due("passant behind " + other, due, Hall.with(other).status(7));
     }
 
     private static void passantOfTwoRanks() {
@@ -615,6 +790,8 @@ public final class MoveEdgeTest {
 
     private static void clockDue(String record, String move, int due) {
         Hall.due("clock behind " + move + " in " + record, due, Hall.with(record + " " + move).status(8));
+        String other = Hall.mirrored(record + " " + move);
+        Hall.due("clock behind " + other, due, Hall.with(other).status(8));
     }
 
     private static void clock() {
@@ -672,121 +849,5 @@ public final class MoveEdgeTest {
                 before = order;
             }
         }
-    }
-
-    private static void spelled(String record, String move, String due) {
-        Oracle x = Oracle.read(record).game.get(0);
-        GameHall hall = Hall.with(record);
-        int from = square(move.substring(0, 2));
-        int become = move.length() == 4 ? 0 : Oracle.LETTERS.indexOf(move.charAt(4));
-        int wanted = from + 64 * square(move.substring(2, 4)) + 4096 * become;
-        int place = x.list().indexOf(wanted);
-        Hall.due("spelling of " + move + " in " + record, due, Hall.text(hall.spelling(place)));
-        // The text takes this spelling, and the game stands behind the move.
-        Hall.due("text with " + due, 1, Hall.submit(hall, record + " " + due));
-        Hall.due("move read for " + due, "" + wanted, Hall.answer(() -> hall.historyOf(1, 3)));
-    }
-
-    private static void castlingSpelled() {
-        Hall.about("a castling one is 0-0 to the king's side, 0-0-0 to the queen's");
-        spelled(ROOKS + " w KQkq - 0 1", "e1g1", "0-0");
-        spelled(ROOKS + " w KQkq - 0 1", "e1c1", "0-0-0");
-        spelled(ROOKS + " b KQkq - 0 1", "e8g8", "0-0");
-        spelled(ROOKS + " b KQkq - 0 1", "e8c8", "0-0-0");
-        spelled("5k2/8/8/8/8/8/8/4K2R w K - 0 1", "e1g1", "0-0+");
-        spelled("3k4/8/8/8/8/8/8/R3K3 w Q - 0 1", "e1c1", "0-0-0+");
-        spelled("5k2/8/8/4R1R1/8/8/8/4K2R w K - 0 1", "e1g1", "0-0#");
-        spelled("3k4/8/8/2R1R3/8/8/8/R3K3 w Q - 0 1", "e1c1", "0-0-0#");
-    }
-
-    private static void manSpelled() {
-        Hall.about("Another man than a pawn: K, Q, R, B or N; its ORIGIN; x if it takes; the square it goes to"
-                + " (file a .. h and rank 1 .. 8)");
-        String record = "7k/8/2p1p3/pR6/3N4/2K1Q3/8/5B2 w - - 0 1";
-        spelled(record, "c3b2", "Kb2");
-        spelled(record, "e3g1", "Qg1");
-        spelled(record, "e3e6", "Qxe6");
-        spelled(record, "b5b8", "Rb8+");
-        spelled(record, "b5a5", "Rxa5");
-        spelled(record, "f1h3", "Bh3");
-        spelled(record, "d4f3", "Nf3");
-        spelled(record, "d4c6", "Nxc6");
-        spelled("k7/7p/8/8/8/8/1n6/K7 w - - 0 1", "a1b2", "Kxb2");
-        spelled("k7/7p/8/8/8/8/1n6/K7 b - - 0 1", "b2d1", "Nd1");
-        spelled("Q6k/8/8/8/8/8/8/K7 b - - 0 1", "h8g7", "Kg7");
-        spelled("7k/8/8/8/8/8/8/K5R1 w - - 0 1", "g1g8", "Rg8+");
-        spelled("8/7k/8/8/8/8/P7/K6B w - - 0 1", "h1a8", "Ba8");
-    }
-
-    private static void pawnSpelled() {
-        Hall.about("A pawn: if the file changes, its file and x; the square; the letter of what it becomes, if it does");
-        spelled("7k/8/8/8/8/8/P7/7K w - - 0 1", "a2a3", "a3");
-        spelled("7k/8/8/8/8/8/P7/7K w - - 0 1", "a2a4", "a4");
-        spelled("7k/8/8/8/8/1n6/P7/7K w - - 0 1", "a2b3", "axb3");
-        spelled("7k/8/8/pP6/8/8/8/7K w - a6 0 1", "b5a6", "bxa6");
-        // Two pawns that come to one square are told apart by the file they come from.
-        spelled("7k/8/8/8/8/3n4/2P1P3/7K w - - 0 1", "c2d3", "cxd3");
-        spelled("7k/8/8/8/8/3n4/2P1P3/7K w - - 0 1", "e2d3", "exd3");
-        spelled("1n6/P6k/8/8/8/8/8/7K w - - 0 1", "a7a8N", "a8N");
-        spelled("1n6/P6k/8/8/8/8/8/7K w - - 0 1", "a7a8B", "a8B");
-        spelled("1n6/P6k/8/8/8/8/8/7K w - - 0 1", "a7a8R", "a8R");
-        spelled("1n6/P6k/8/8/8/8/8/7K w - - 0 1", "a7a8Q", "a8Q");
-        spelled("1n6/P6k/8/8/8/8/8/7K w - - 0 1", "a7b8Q", "axb8Q");
-        spelled("7k/8/8/8/8/8/p7/1N5K b - - 0 1", "a2b1N", "axb1N");
-        spelled("7k/8/8/8/8/8/p7/1N5K b - - 0 1", "a2a1Q", "a1Q");
-    }
-
-    private static void checkSpelled() {
-        Hall.about("Behind each + if the other side's king is ATTACKED then, but # instead, if besides the other side"
-                + " has no LEGAL move");
-        spelled("7k/8/8/8/8/8/8/K5R1 w - - 0 1", "g1h1", "Rh1+");
-        spelled("7k/8/8/8/8/8/8/K5R1 w - - 0 1", "g1f1", "Rf1");
-        spelled("7k/6pp/8/8/8/8/8/KR6 w - - 0 1", "b1b8", "Rb8#");
-        spelled("7k/6p1/8/8/8/8/8/KR6 w - - 0 1", "b1b8", "Rb8+");
-        spelled("7k/5K2/8/8/8/8/8/5Q2 w - - 0 1", "f1h3", "Qh3#");
-        // No move is left, but the king is not attacked: nothing stands behind.
-        spelled("7k/8/6K1/8/8/8/8/5Q2 w - - 0 1", "f1f7", "Qf7");
-        spelled("7k/8/6K1/8/8/8/8/5Q2 w - - 0 1", "f1f8", "Qf8#");
-        spelled("7k/5P2/7K/8/8/8/8/8 w - - 0 1", "f7f8Q", "f8Q#");
-        spelled("7k/5P2/7K/8/8/8/8/8 w - - 0 1", "f7f8R", "f8R#");
-        spelled("7k/5P2/7K/8/8/8/8/8 w - - 0 1", "f7f8B", "f8B");
-        spelled("7k/5P2/6K1/8/8/8/8/8 w - - 0 1", "f7f8R", "f8R#");
-        // A man that steps aside opens the line of another.
-        spelled("4k3/8/8/8/8/8/4B3/K3R3 w - - 0 1", "e2d1", "Bd1+");
-        spelled("4k3/8/8/8/8/8/4K3/4R3 w - - 0 1", "e2d2", "Kd2+");
-        spelled("4k3/8/8/3pP3/8/8/8/K3R3 w - d6 0 1", "e5d6", "exd6+");
-        spelled("4k3/4P3/8/8/8/8/8/K7 w - - 0 1", "a1b1", "Kb1");
-    }
-
-    private static void origin() {
-        Hall.about("The ORIGIN: LEGAL moves of the same man to the same square from other squares are its RIVALS. Nothing if"
-                + " it has none; else its file, if no rival has it; else its rank, if no rival has that; else its file and rank");
-        String none = "7k/8/8/8/8/8/8/KN4N1 w - - 0 1";
-        spelled(none, "b1d2", "Nd2");
-        spelled(none, "g1f3", "Nf3");
-        String files = "7k/8/8/8/8/8/8/K2N1N2 w - - 0 1";
-        spelled(files, "d1e3", "Nde3");
-        spelled(files, "f1e3", "Nfe3");
-        spelled(files, "d1f2", "Nf2");
-        // On one rank and on other ranks: the file is enough, wherever it is another one.
-        spelled("7k/8/8/8/8/5N2/8/K1N5 w - - 0 1", "c1e2", "Ne2");
-        spelled("7k/8/8/8/5N2/8/8/K1N5 w - - 0 1", "c1e2", "Nce2");
-        spelled("7k/8/8/8/5N2/8/8/K1N5 w - - 0 1", "f4e2", "Nfe2");
-        String ranks = "7k/8/8/2N5/8/8/8/K1N5 w - - 0 1";
-        spelled(ranks, "c1b3", "N1b3");
-        spelled(ranks, "c5b3", "N5b3");
-        spelled("R7/7k/8/8/8/8/7K/R7 w - - 0 1", "a1a5", "R1a5");
-        spelled("R7/7k/8/8/8/8/7K/R7 w - - 0 1", "a8a5", "R8a5");
-        spelled("R7/7k/8/8/8/8/7K/R7 w - - 0 1", "a8b8", "Rb8");
-        String three = "6k1/8/8/8/Q6Q/8/7K/Q7 w - - 0 1";
-        spelled(three, "a4d4", "Qa4d4");
-        spelled(three, "a1d4", "Q1d4");
-        spelled(three, "h4d4", "Qhd4");
-        // A rival that is pinned has no such move; a man of another kind or side is none.
-        spelled("7k/8/8/4N3/8/8/8/4K1N1 w - - 0 1", "g1f3", "Ngf3");
-        spelled("4r2k/8/8/4N3/8/8/8/4K1N1 w - - 0 1", "g1f3", "Nf3");
-        spelled("7k/8/8/8/8/8/B7/K2R4 w - - 0 1", "d1b1", "Rb1");
-        spelled("7k/8/8/8/2n5/8/8/K4N2 w - - 0 1", "f1d2", "Nd2");
-        spelled("7k/8/8/8/8/8/8/KQ1R4 w - - 0 1", "d1c1", "Rc1");
     }
 }

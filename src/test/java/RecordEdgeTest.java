@@ -316,7 +316,7 @@ public final class RecordEdgeTest {
     }
 
     private static void kings() {
-        Hall.about("there is one king of each side; 7 the kings");
+        Hall.about("there is one king of each side, ... 7 the kings");
         for (int white = 0; white <= 3; white++) {
             for (int black = 0; black <= 3; black++) {
                 Oracle x = new Oracle();
@@ -335,7 +335,7 @@ public final class RecordEdgeTest {
     }
 
     private static void pawnsOnLastRanks() {
-        Hall.about("no pawn on the first or eighth rank; 8 a pawn on those ranks");
+        Hall.about("no pawn on the first or eighth rank; ... 8 a pawn on those ranks");
         for (int square = 0; square < 64; square++) {
             for (int pawn = 1; pawn <= 7; pawn += 6) {
                 Oracle x = board();
@@ -368,7 +368,7 @@ public final class RecordEdgeTest {
     }
 
     private static void eightPawns() {
-        Hall.about("of each side at most 8 pawns");
+        Hall.about("of each side at most 8 pawns ... or too many men");
         for (int side = 0; side < 2; side++) {
             for (int pawns = 0; pawns <= 12; pawns++) {
                 DESK.due(army(side, pawns, new int[6]), pawns <= 8 ? 0 : 8);
@@ -401,7 +401,7 @@ public final class RecordEdgeTest {
     }
 
     private static void usualMenOfOtherKinds() {
-        Hall.about("together (what is missing of one kind is no room for another)");
+        Hall.about("is together not more than");
         int[] usual = {0, 0, 2, 2, 2, 1};
         for (int mix = 0; mix < 256; mix++) {
             int[] men = new int[6];
@@ -419,7 +419,7 @@ public final class RecordEdgeTest {
 
     private static void castlingRights() {
         Hall.about("for each right to castle the king and the rook stand on e and h (king's side)"
-                + " or a (queen's) of their own first rank; 9 a right to castle");
+                + " or a (queen's) of their own first rank; ... 9 a right to castle");
         int[] corners = {7, 0, 63, 56};
         for (int k = 0; k < 4; k++) {
             int own = k < 2 ? 0 : 1;
@@ -512,7 +512,7 @@ public final class RecordEdgeTest {
     }
 
     private static void passantClock() {
-        Hall.about("and the CLOCK is 0; 10 the PASSANT");
+        Hall.about("and the CLOCK is 0; ... 10 the PASSANT");
         for (int side = 0; side < 2; side++) {
             for (int file = 0; file < 8; file++) {
                 for (int clock : new int[] {0, 1, 2, 10, 100, 999}) {
@@ -529,7 +529,7 @@ public final class RecordEdgeTest {
     }
 
     private static void kingNotToMove() {
-        Hall.about("and the king of the side that is not to move is not ATTACKED; 11 the king that is attacked");
+        Hall.about("and the king of the side that is not to move is not ATTACKED. ... 11 the king that is attacked");
         Hall.refused("4k3/8/8/8/8/8/8/4RK2 w - - 0 1", 11, -1);
         Hall.taken("4k3/8/8/8/8/8/8/4RK2 b - - 0 1", 0);
         Hall.taken("4k3/8/8/8/4n3/8/8/4RK2 w - - 0 1", 0);

@@ -31,6 +31,7 @@ public final class TextEdgeTest {
         notSpelledSo();
         butForTheSign();
         leastFaultOfAMove();
+        rowOfPositions();
         same();
         sameSide();
         sameRights();
@@ -104,7 +105,7 @@ public final class TextEdgeTest {
     }
 
     private static void goesOnBefore() {
-        Hall.about("With 1 to 5 the game has ended (with 6, 7 and 8 it goes on)");
+        Hall.about("With 1 to 5 the game has ended");
         Hall.due("for the count", 6, Hall.taken(Hall.START + SHUFFLE + SHUFFLE, 8).status(4));
         Hall.taken(Hall.START + SHUFFLE + SHUFFLE + " e4", 9);
         Hall.due("for the clock", 7, Hall.taken("4k3/8/8/8/8/8/8/R3K3 w - - 99 80 Ra2", 1).status(4));
@@ -345,7 +346,25 @@ public final class TextEdgeTest {
         Hall.taken(goes + " Ra2", 1);
     }
 
+    private static void rowOfPositions() {
+        Hall.about("A GAME is a row of positions, from the RECORD's on.");
+        GameHall hall = Hall.with("4k3/8/8/8/3p4/8/4P3/4K3 w - - 5 7 e4 dxe3 Kd1");
+        int[] clocks = {5, 0, 0, 1};
+        int[] moves = {-1, 12 + 64 * 28, 27 + 64 * 20, 4 + 64 * 3};
+        Hall.due("positions", 4, hall.status(3));
+        for (int i = 0; i < 4; i++) {
+            Hall.due("clock of " + i, clocks[i], hall.historyOf(i, 1));
+            Hall.due("move to " + i, moves[i], hall.historyOf(i, 3));
+        }
+        Hall.due("one position", 1, Hall.with("4k3/8/8/8/3p4/8/4P3/4K3 w - - 5 7").status(3));
+    }
+
     private static void sameDue(String text, int i, int count, int first) {
+        sameDueAsItIs(text, i, count, first);
+        sameDueAsItIs(Hall.mirrored(text), i, count, first);
+    }
+
+    private static void sameDueAsItIs(String text, int i, int count, int first) {
         GameHall hall = Hall.with(text);
         Hall.due("count of " + i + " in " + text, count, hall.historyOf(i, 0));
         Hall.due("first of " + i + " in " + text, first, hall.historyOf(i, 6));
@@ -366,7 +385,7 @@ public final class TextEdgeTest {
     }
 
     private static void sameSide() {
-        Hall.about("SIDE (two positions with the same men and the other side to move are two)");
+        Hall.about("if all squares, SIDE");
         // The white king loses a move on a triangle.
         String text = "k7/8/8/8/8/8/7P/K7 w - - 0 1 Kb1 Kb8 Kb2 Ka8 Ka1";
         sameDue(text, 5, 1, 5);
@@ -479,6 +498,11 @@ public final class TextEdgeTest {
     }
 
     private static void verdictDue(String text, int due) {
+        verdictDueAsItIs(text, due);
+        verdictDueAsItIs(Hall.mirrored(text), due);
+    }
+
+    private static void verdictDueAsItIs(String text, int due) {
         GameHall hall = Hall.with(text);
         Hall.due("verdict of " + text, due, hall.status(4));
         Hall.due("verdict in the history of " + text, due, hall.historyOf(hall.status(3) - 1, 2));
