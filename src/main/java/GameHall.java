@@ -1357,15 +1357,16 @@ public final class GameHall {
             }
             kind = 0;
             become = 0;
-            if (castles()) {
+            if (castles(end - start)) {
                 return true;
             }
             kind = kindOf(tape.byteAt(start));
             return kind == 0 ? hasPawnForm(end) : readSquare(end - 2) && hasOriginForm(end - 2);
         }
 
-        private boolean castles() {
-            return word == Scribe.SHORT_CASTLING || word == Scribe.LONG_CASTLING;
+        /** The length counts, too: a byte 0 ahead of a word would not change its number. */
+        private boolean castles(int length) {
+            return length == 3 && word == Scribe.SHORT_CASTLING || length == 5 && word == Scribe.LONG_CASTLING;
         }
 
         /** 0 for what is no letter of a man other than a pawn. */

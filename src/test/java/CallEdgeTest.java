@@ -582,18 +582,29 @@ public final class CallEdgeTest {
         Hall.about("Promise 9: Eight characters 8 * k .. 8 * k + 7 of the position's RECORD, likewise; 0 where there are none");
         String[] records = {"8/8/8/8/8/2k5/7R/2K5 w - - 0 1", "8/8/8/8/8/2k5/7R/2K5 w - - 0 10", "8/8/8/8/8/2k5/7R/2K5 w - - 0 100",
             "8/8/8/8/8/2k5/7R/2K5 w - - 10 100", "8/8/8/8/8/2k5/6R1/2K5 w - - 10 100", Hall.START,
-            "r1b1k1nr/p1p1p1p1/1p1p1p1p/R1B1Q1N1/P1P1P1P1/1P1P1P1P/N1B5/R3K2q w Qkq - 999 9999"};
+            "r1b1k1nr/p1p1p1p1/1p1p1p1p/R1B1Q1N1/P1P1P1P1/1P1P1P1P/N1B5/R3K2q w Qkq - 999 9999",
+            "4k3/8/8/3pP3/8/8/8/4K3 w - d6 0 9", "4k3/8/8/8/3pP3/8/8/4K3 b - e3 0 9", "r3k2r/8/8/8/8/8/8/R3K2R b Kq - 7 9"};
         for (String record : records) {
-            GameHall hall = Hall.with(record);
-            for (int k = -2; k <= 14; k++) {
-                long due = 0;
-                for (int at = 8 * k; at < 8 * k + 8; at++) {
-                    due = due << 8 | (at >= 0 && at < record.length() ? record.charAt(at) : 0);
-                }
-                Hall.due("recordAt " + k + " of " + record, due, hall.recordAt(k));
-            }
+            recordDue(Hall.with(record), record);
         }
         Hall.due("a whole number of eights", 32, records[2].length());
+        // Nothing of a longer record that was told before stands behind a shorter one.
+        for (String record : records) {
+            GameHall hall = Hall.with(records[6]);
+            recordDue(hall, records[6]);
+            Hall.submit(hall, record);
+            recordDue(hall, record);
+        }
+    }
+
+    private static void recordDue(GameHall hall, String record) {
+        for (int k = -2; k <= 14; k++) {
+            long due = 0;
+            for (int at = 8 * k; at < 8 * k + 8; at++) {
+                due = due << 8 | (at >= 0 && at < record.length() ? record.charAt(at) : 0);
+            }
+            Hall.due("recordAt " + k + " of " + record, due, hall.recordAt(k));
+        }
     }
 
     private static void recordOutside() {

@@ -138,9 +138,14 @@ public final class LookEdgeTest {
             value("8/8/8/8/8/6k1/5q2/7K w - - 0 1", depth, 0);
         }
         value("7k/5Q2/6K1/8/8/p7/8/8 b - - 0 1", 0, -8);
-        // The queen that takes all squares would be a draw; black has nothing better than to be stalemated.
+        // The best that white has is to stalemate black at once; all other moves leave black a pawn ahead.
+        value("8/8/8/8/8/3K4/p7/k7 w - - 0 1", 0, -1);
+        for (int depth = 1; depth <= 4; depth++) {
+            value("8/8/8/8/8/3K4/p7/k7 w - - 0 1", depth, 0);
+            best("8/8/8/8/8/3K4/p7/k7 w - - 0 1", depth, "Kc2");
+        }
+        // Stalemate is worse than what there is besides.
         value("7k/8/6K1/8/8/8/8/5Q2 w - - 0 1", 1, 999);
-        value("8/8/8/8/8/k7/p7/K7 w - - 0 1", 2, 0);
     }
 
     private static void valueOfMen() {

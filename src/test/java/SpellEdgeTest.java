@@ -132,6 +132,11 @@ public final class SpellEdgeTest {
         spelled(three, "a4d4", "Qa4d4");
         spelled(three, "a1d4", "Q1d4");
         spelled(three, "h4d4", "Qhd4");
+        // The rival's move is the first one of the list, or the last one.
+        spelled("7k/8/8/8/8/8/7K/R1R5 w - - 0 1", "c1b1", "Rcb1");
+        spelled("7k/8/8/8/8/8/7K/R1R5 w - - 0 1", "a1b1", "Rab1");
+        spelled("2R1R3/7k/8/8/8/8/8/K7 w - - 0 1", "c8d8", "Rcd8");
+        spelled("2R1R3/7k/8/8/8/8/8/K7 w - - 0 1", "e8d8", "Red8");
         // A rival that is pinned has no such move; a man of another kind or side is none.
         spelled("7k/8/8/4N3/8/8/8/4K1N1 w - - 0 1", "g1f3", "Ngf3");
         spelled("4r2k/8/8/4N3/8/8/8/4K1N1 w - - 0 1", "g1f3", "Nf3");

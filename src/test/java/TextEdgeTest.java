@@ -155,6 +155,26 @@ public final class TextEdgeTest {
             "0-0x", "K0-0", "0-0Q", "0_0", "0--0", "0-0-0-0-0"}) {
             Hall.refused(Hall.START + " " + word, 21, 0);
         }
+        // One byte more or another one, also 0, where both castlings would be legal.
+        for (int sign = 0; sign < 256; sign++) {
+            if (sign != ' ') {
+                for (String word : new String[] {"*0-0", "*0-0-0", "0-0*", "0-0-0*", "*-0", "0*0", "0-*", "0-0*0", "0-0-*", "**0-0", "0-0**"}) {
+                    castlingForm(word.replace('*', (char) sign));
+                }
+            }
+        }
+        for (int bytes = 1; bytes <= 12; bytes++) {
+            castlingForm("\0".repeat(bytes) + "0-0");
+            castlingForm("\0".repeat(bytes) + "0-0-0");
+            castlingForm("0-0" + "\0".repeat(bytes));
+        }
+    }
+
+    private static void castlingForm(String word) {
+        GameHall hall = DESK.read(ROOKS + " w KQkq - 0 1 " + word);
+        int fault = word.equals("0-0") || word.equals("0-0-0") ? 0 : word.matches("0-0(-0)?[+#]") ? 24 : 21;
+        Hall.due("fault of '" + word + "'", fault, hall.status(1));
+        Hall.due("faulty move of '" + word + "'", fault == 0 ? -1 : 0, hall.status(2));
     }
 
     private static void formOfMen() {
@@ -220,6 +240,8 @@ public final class TextEdgeTest {
         }
         for (int sign = 0; sign < 256; sign++) {
             if (sign != ' ') {
+                form((char) sign + "e4");
+                form((char) sign + "Nf3");
                 form((char) sign + "4");
                 form("e" + (char) sign);
                 form((char) sign + "f3");
@@ -258,6 +280,33 @@ public final class TextEdgeTest {
         Hall.taken("5r1k/8/8/8/8/8/4N3/4K3 w - - 0 1 Nc3", 1);
         // The other side's men are none of that man.
         Hall.refused(Hall.START + " Nf6", 22, 0);
+        // The letter of an earlier move does not stay.
+        Hall.taken("6k1/P7/8/8/8/8/7P/7K w - - 0 1 a8N Kf7 Nc7 Kf6 Nd5+", 5);
+        Hall.refused("6k1/P7/8/8/8/8/7P/7K w - - 0 1 a8N Kf7 Nc7N", 21, 2);
+        earlierMoves(Hall.START + " e4 d5 exd5 Qxd5 Nc3 Qa5 Nf3 Bf5 Nb5 Qb6");
+        earlierMoves("4k3/8/8/3pP3/8/8/8/R3K2R w KQ d6 0 1 0-0 Kd7 Rfd1 Ke6 Rxd5 Kxd5");
+        earlierMoves("r3k2r/1P6/8/8/8/8/6p1/R3K2R b KQkq - 0 1 g1Q+ Rxg1 Rb8 Rg7 Kd8 Rc1");
+    }
+
+    /** Behind each move, all moves that were legal before: most of them are not so any more. */
+    private static void earlierMoves(String text) {
+        Oracle.Reading game = Oracle.read(text);
+        Hall.due("fault of " + text, 0, game.fault);
+        for (int many = 1; many <= game.moves.size(); many++) {
+            StringBuilder begun = new StringBuilder(game.game.get(0).record());
+            for (int k = 0; k < many; k++) {
+                begun.append(' ').append(game.game.get(k).spell(game.moves.get(k)));
+            }
+            for (int k = Math.max(0, many - 2); k <= many; k++) {
+                for (int move : game.game.get(k).list()) {
+                    String word = game.game.get(k).spell(move);
+                    int due = Oracle.read(begun + " " + word).fault;
+                    GameHall hall = DESK.read(begun + " " + word);
+                    Hall.due("fault of " + begun + " " + word, due, hall.status(1));
+                    Hall.due("faulty move of " + begun + " " + word, due == 0 ? -1 : many, hall.status(2));
+                }
+            }
+        }
     }
 
     private static void castlingCountsAlone() {
