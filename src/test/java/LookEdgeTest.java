@@ -41,6 +41,7 @@ public final class LookEdgeTest {
         distanceOfTheKingAlone();
         distanceOfTheOther();
         distanceOfNone();
+        distancesInTurn();
         matingMove();
         matingMoveOfNone();
         Hall.end("LookEdgeTest");
@@ -450,6 +451,21 @@ public final class LookEdgeTest {
         mate("4k3/8/4K3/4P3/8/8/8/8 b - - 0 1", MateTest.distance(Oracle.read("4k3/8/4K3/4P3/8/8/8/8 b - - 0 1").game.get(0)), 0);
         mate("4k3/4P3/4K3/8/8/8/8/8 b - - 0 1", -1, -1);
         mate("4k3/8/4P3/4K3/8/8/8/8 w - - 0 1", -1, -1);
+    }
+
+    private static void distancesInTurn() {
+        Hall.about("All other positions have none.");
+        String[] men = {"N", "B", "P", "R", "Q", "P", "B", "N", "R", "Q", "N", "B"};
+        GameHall hall = new GameHall(1);
+        for (String man : men) {
+            for (String side : new String[] {"w", "b"}) {
+                String record = "4k3/8/8/8/8/8/3" + man + "4/4K3 " + side + " - - 0 1";
+                Oracle x = Oracle.read(record).game.get(0);
+                Hall.submit(hall, record);
+                Hall.due("distance of " + record, MateTest.distance(x), hall.distanceToMate());
+                Hall.due("mating move of " + record, MateTest.matingPlace(x), hall.matingMove());
+            }
+        }
     }
 
     private static void matingMove() {

@@ -22,7 +22,7 @@ public final class MateTest {
             table(kind);
             int asked = 0;
             for (int at = 0; at < 2 * 64 * 64 * 64; at++) {
-                if (!stands(kind, at) || !all && random.nextInt(130) > 0) {
+                if (!stands(kind, at) || !all && random.nextInt(40) > 0 && !barred(kind, at)) {
                     continue;
                 }
                 if (asked % 90 == 0) {
@@ -38,6 +38,16 @@ public final class MateTest {
         Hall.due("the longest way with a bishop", -1, longest(3));
         Hall.due("the longest way with a knight", -1, longest(2));
         Hall.end("MateTest");
+    }
+
+    /** A pawn on its second rank with a king one or two ranks ahead of it: these are all looked at. */
+    private static boolean barred(int kind, int at) {
+        int weak = at % 64;
+        int man = at / 64 % 64;
+        int king = at / 4096 % 64;
+        boolean near = king == man + 8 || weak == man + 8;
+        boolean far = king == man + 16 || weak == man + 16;
+        return kind == 1 && man / 8 == 1 && (near || far);
     }
 
     /** Solved when it is first asked; a pawn becomes the others. */
