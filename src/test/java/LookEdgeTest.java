@@ -40,6 +40,7 @@ public final class LookEdgeTest {
         distanceWithPassant();
         distanceOfTheKingAlone();
         distanceOfTheOther();
+        distanceOfTheLongestWays();
         distanceOfNone();
         distancesInTurn();
         matingMove();
@@ -433,6 +434,17 @@ public final class LookEdgeTest {
         mate("8/6P1/8/8/8/8/2K5/k7 w - - 0 1", 3, 8);
         // Both sides may be the strong one.
         mate("8/8/8/8/8/1k6/7r/K7 b - - 0 1", 1, Hall.place(Hall.with("8/8/8/8/8/1k6/7r/K7 b - - 0 1"), "Rh1#"));
+    }
+
+    /** The longest ways that are known of these endings: 10, 16 and 28 moves of the strong side. */
+    private static void distanceOfTheLongestWays() {
+        Hall.about("(What has one at all is what is so by finitely many such steps.)");
+        String[] texts = {"8/8/8/5k2/8/8/1Q6/K7 w - - 0 1", "8/8/8/8/4k3/8/1Q6/K7 b - - 0 1", "8/8/8/8/8/2k5/1R6/K7 w - - 0 1",
+            "8/8/8/8/8/8/1Rk5/K7 b - - 0 1", "8/8/8/1k6/8/8/K5P1/8 w - - 0 1", "8/8/8/k7/8/K7/6P1/8 b - - 0 1"};
+        int[] due = {19, 20, 31, 32, 55, 56};
+        for (int k = 0; k < texts.length; k++) {
+            mate(texts[k], due[k], MateTest.matingPlace(Oracle.read(texts[k]).game.get(0)));
+        }
     }
 
     private static void distanceOfNone() {
