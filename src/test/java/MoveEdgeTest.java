@@ -594,7 +594,7 @@ public final class MoveEdgeTest {
         // The pawn that gives check is taken in passing.
         goes("7k/8/8/3pP3/4K3/8/8/8 w - d6 0 1", "e5", "d6");
         goes("7k/8/8/3pP3/4K3/8/8/8 w - - 0 1", "e5", "");
-        // Another man gives check: taking in passing does not help, or stands between, or opens a line.
+        // Another man gives check: taking in passing does not help, or stands between.
         goes("7k/8/8/3pP3/8/8/3n4/5K2 w - d6 0 1", "e5", "");
         goes("7k/8/8/2KpP3/8/3n4/8/8 w - d6 0 1", "e5", "");
         goes("7k/8/r6K/3pP3/8/8/8/8 w - d6 0 1", "e5", "d6 e6");
